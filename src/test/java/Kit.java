@@ -1,0 +1,161 @@
+import java.io.ByteArrayOutputStream;
+import java.nio.charset.StandardCharsets;
+
+/** What the tests share: typing rows of bytes, comparing answers, and the exit code. */
+final class Kit {
+    static final Class<?> ARGUMENT = IllegalArgumentException.class;
+    static final Class<?> INDEX = IndexOutOfBoundsException.class;
+    static final Class<?> UNSUPPORTED = UnsupportedOperationException.class;
+
+    private static int wrong = 0;
+
+    private Kit() {
+    }
+
+    interface Call {
+        void run();
+    }
+
+    static void due(String what, long got, long want) {
+        if (got != want) {
+            wrong++;
+            if (wrong <= 50) {
+                System.out.println(what + ": answered " + got + ", due is " + want);
+            }
+        }
+    }
+
+    static void due(String what, boolean got, boolean want) {
+        due(what, got ? 1 : 0, want ? 1 : 0);
+    }
+
+    static void due(String what, byte[] got, byte[] want) {
+        due(what + ", size", got.length, want.length);
+        for (int k = 0; k < Math.min(got.length, want.length); k++) {
+            due(what + ", byte " + k, got[k] & 255, want[k] & 255);
+        }
+    }
+
+    static void dueThrow(String what, Class<?> want, Call call) {
+        Class<?> got = null;
+        try {
+            call.run();
+        } catch (RuntimeException e) {
+            got = e.getClass();
+        }
+        if (got != want) {
+            wrong++;
+            System.out.println(what + ": threw " + got + ", due is " + want);
+        }
+    }
+
+    static void end() {
+        System.out.println(wrong == 0 ? "all answers are as due" : wrong + " answers are wrong");
+        System.exit(wrong == 0 ? 0 : 1);
+    }
+
+    static byte[] bytes(String text) {
+        return text.getBytes(StandardCharsets.ISO_8859_1);
+    }
+
+    static byte[] join(byte[]... rows) {
+        ByteArrayOutputStream all = new ByteArrayOutputStream();
+        for (byte[] row : rows) {
+            all.writeBytes(row);
+        }
+        return all.toByteArray();
+    }
+
+    /** So many bytes, each of the text in turn. */
+    static byte[] filled(String text, int n) {
+        byte[] row = new byte[n];
+        for (int k = 0; k < n; k++) {
+            row[k] = (byte) text.charAt(k % text.length());
+        }
+        return row;
+    }
+
+    /** Types at most 8 bytes a call. */
+    static void type(PackageBook book, byte[] row) {
+        for (int from = 0; from < row.length; from += 8) {
+            int n = Math.min(8, row.length - from);
+            long w = 0;
+            for (int k = 0; k < n; k++) {
+                w |= (long) (row[from + k] & 255) << (8 * k);
+            }
+            book.type(w, n);
+        }
+    }
+
+    static int add(PackageBook book, String name, byte[] content) {
+        type(book, join(bytes(name), content));
+        return book.add(name.length());
+    }
+
+    static int add(PackageBook book, String name, String content) {
+        return add(book, name, bytes(content));
+    }
+
+    static boolean remove(PackageBook book, String name) {
+        type(book, bytes(name));
+        return book.remove();
+    }
+
+    static int expand(PackageBook book, byte[] stream) {
+        type(book, stream);
+        return book.expand();
+    }
+
+    static int press(PackageBook book, byte[] row) {
+        type(book, row);
+        return book.press();
+    }
+
+    static int read(PackageBook book, byte[] file) {
+        type(book, file);
+        return book.read();
+    }
+
+    /** What came out last, of which there must be n bytes. */
+    static byte[] out(PackageBook book, int n) {
+        byte[] row = new byte[n];
+        for (int k = 0; k < n; k++) {
+            row[k] = (byte) book.out(k);
+        }
+        dueThrow("out(" + n + ")", INDEX, () -> book.out(n));
+        return row;
+    }
+
+    static byte[] written(PackageBook book) {
+        int n = book.write();
+        byte[] row = new byte[n];
+        for (int k = 0; k < n; k++) {
+            row[k] = (byte) book.file(k);
+        }
+        dueThrow("file(" + n + ")", INDEX, () -> book.file(n));
+        return row;
+    }
+
+    static byte[] nameOf(PackageBook book, int i) {
+        byte[] row = new byte[book.about(1, i)];
+        for (int k = 0; k < row.length; k++) {
+            row[k] = (byte) book.byteOf(i, k);
+        }
+        return row;
+    }
+
+    static byte[] contentOf(PackageBook book, int i) {
+        byte[] row = new byte[book.about(2, i)];
+        for (int k = 0; k < row.length; k++) {
+            row[k] = (byte) book.byteOf(i, book.about(1, i) + k);
+        }
+        return row;
+    }
+
+    static void dueParts(String what, PackageBook book, String... names) {
+        due(what + ", parts", book.about(0, -7), names.length);
+        for (int i = 0; i < Math.min(names.length, book.about(0, 0)); i++) {
+            due(what + ", name " + i, nameOf(book, i), bytes(names[i]));
+        }
+    }
+}
