@@ -1,0 +1,196 @@
+import java.util.ArrayList;
+import java.util.HashSet;
+import java.util.List;
+import java.util.Random;
+import java.util.Set;
+import java.util.TreeMap;
+
+/** Promises 16, 17. */
+public final class CheckTest {
+    public static void main(String[] args) {
+        root();
+        relations();
+        tellers();
+        latest();
+        questions();
+        againstOracle();
+        Kit.end();
+    }
+
+    /** Each want: kind, part, number. */
+    private static void due(String what, PackageBook book, int[]... wants) {
+        Kit.due(what + ", faults", book.check(), wants.length);
+        for (int k = 0; k < wants.length; k++) {
+            for (int ask = 0; ask < 3; ask++) {
+                Kit.due(what + ", fault " + k + ", " + ask, book.fault(k, ask), wants[k][ask]);
+            }
+        }
+        Kit.dueThrow(what + ", no more", Kit.INDEX, () -> book.fault(wants.length, 0));
+    }
+
+    private static int[] of(int kind, int part, int number) {
+        return new int[] {kind, part, number};
+    }
+
+    private static String to(String... names) {
+        StringBuilder text = new StringBuilder("<rels>");
+        for (int k = 0; k < names.length; k++) {
+            text.append("<rel id='r").append(k).append("' to='").append(names[k]).append("'/>");
+        }
+        return text.append("</rels>").toString();
+    }
+
+    private static void root() {
+        PackageBook book = new PackageBook();
+        due("no parts", book);
+        Kit.add(book, "a", "");
+        Kit.add(book, "b", "");
+        due("no root", book, of(4, 0, 0), of(4, 1, 0));
+        Kit.add(book, "a.rels", to("b"));
+        due("no root, but relations", book, of(4, 0, 0), of(4, 2, 0));
+        Kit.add(book, "root", "");
+        due("root without relations", book, of(4, 0, 0), of(4, 2, 0));
+        Kit.add(book, "root.rels", to("a"));
+        due("all reached", book);
+        Kit.add(book, "root.rels", to("b"));
+        due("not backward", book, of(4, 0, 0));
+        Kit.add(book, "b.rels", to("root", "a"));
+        due("round", book);
+        Kit.remove(book, "root");
+        // Without root its relations are a part like others.
+        due("root.rels alone", book, of(3, 2, 0), of(4, 0, 0), of(4, 2, 0), of(4, 4, 0));
+        Kit.add(book, "x/root", "");
+        due("another name", book, of(3, 2, 0), of(4, 0, 0), of(4, 2, 0), of(4, 4, 0), of(4, 5, 0));
+    }
+
+    private static void relations() {
+        PackageBook book = new PackageBook();
+        Kit.add(book, "a", "");
+        Kit.add(book, "root", "");
+        Kit.add(book, "root.rels", "<rels><rel id='x' to='a'/><rel id='x' to='none'/><rel id='y' to='a'/><rel id='&#120;' to='a'/>"
+            + "<rel id='X' to='nor'/><rel id='xx' to='a'/></rels>");
+        due("both", book, of(2, 1, 1), of(3, 1, 1), of(2, 1, 3), of(3, 1, 4));
+        Kit.add(book, "a.rels", "<rels><rel id='x' to='root'/></rels> x");
+        due("markup", book, of(1, 0, 37), of(2, 2, 1), of(3, 2, 1), of(2, 2, 3), of(3, 2, 4));
+        Kit.add(book, "root.rels", "<rels><rel id='x' to='a'/>");
+        due("a markup with a fault has no relations", book, of(1, 0, 37), of(1, 2, 26), of(4, 0, 0));
+        Kit.add(book, "root.rels", "<rels><rel id='12345678' to='a'/><rel id='1234567' to='a'/><rel id='12345678' to='a'/></rels>");
+        Kit.remove(book, "a.rels");
+        due("long ids", book, of(2, 1, 2));
+    }
+
+    private static void tellers() {
+        PackageBook book = new PackageBook();
+        Kit.add(book, "root", "");
+        Kit.add(book, "root.rels", to("root.rels", "a.rels"));
+        Kit.add(book, "a", "");
+        Kit.add(book, "a.rels", to("b"));
+        Kit.add(book, "b", "");
+        Kit.add(book, "a.rels.rels", to("b", "a") + "fault");
+        // a.rels is reached, but it is relations itself: what it has does not count.
+        due("through relations", book, of(4, 0, 0), of(4, 3, 0));
+        Kit.add(book, "a.rels.rels", to("b", "a", "none"));
+        due("not looked at", book, of(4, 0, 0), of(4, 3, 0));
+        Kit.remove(book, "a");
+        // Now a.rels is a part like others, and a.rels.rels tells its relations.
+        due("like others", book, of(3, 0, 1), of(3, 0, 2));
+        Kit.add(book, ".rels", "");
+        Kit.add(book, "b/.rels", "");
+        due("relations of none", book, of(3, 1, 1), of(3, 1, 2), of(4, 0, 0), of(4, 4, 0));
+    }
+
+    private static void latest() {
+        PackageBook book = new PackageBook();
+        Kit.add(book, "b", "");
+        Kit.due("one", book.check(), 1);
+        Kit.add(book, "a", "");
+        Kit.add(book, "root", "");
+        Kit.due("as it was then", book.fault(0, 1), 0);
+        Kit.dueThrow("no second one", Kit.INDEX, () -> book.fault(1, 0));
+        due("now", book, of(4, 0, 0), of(4, 1, 0));
+        Kit.remove(book, "a");
+        Kit.remove(book, "b");
+        Kit.due("still", book.fault(1, 1), 1);
+        due("none", book);
+    }
+
+    private static void questions() {
+        PackageBook book = new PackageBook();
+        Kit.dueThrow("before check", Kit.INDEX, () -> book.fault(0, 0));
+        Kit.add(book, "a", "");
+        Kit.type(book, Kit.bytes("b"));
+        book.check();
+        Kit.due("the tape stays", book.add(1), 2);
+        Kit.dueThrow("what 3", Kit.INDEX, () -> book.fault(0, 3));
+        Kit.dueThrow("what -1", Kit.INDEX, () -> book.fault(0, -1));
+        Kit.dueThrow("fault -1", Kit.INDEX, () -> book.fault(-1, 0));
+        Kit.dueThrow("fault 1", Kit.INDEX, () -> book.fault(1, 0));
+    }
+
+    private static void againstOracle() {
+        Random random = new Random(16);
+        String[] names = {"root", "root.rels", "a", "a.rels", "a.rels.rels", "b", "b.rels", "c", "c.rels", ".rels", "root.rels.rels"};
+        String[] goals = {"root", "a", "b", "c", "a.rels", "none"};
+        for (int round = 0; round < 4000; round++) {
+            TreeMap<String, String> parts = new TreeMap<>();
+            PackageBook book = new PackageBook();
+            for (String name : names) {
+                if (random.nextInt(4) > 0) {
+                    StringBuilder text = new StringBuilder("<rels>");
+                    for (int k = random.nextInt(3); k > 0; k--) {
+                        text.append("<rel id='").append(random.nextInt(3)).append("' to='")
+                            .append(goals[random.nextInt(goals.length)]).append("'/>");
+                    }
+                    text.append(random.nextInt(8) == 0 ? "<" : "</rels>");
+                    parts.put(name, text.toString());
+                    Kit.add(book, name, text.toString());
+                }
+            }
+            due("round " + round, book, faultsOf(parts));
+        }
+    }
+
+    private static boolean tells(TreeMap<String, String> parts, String name) {
+        return name.endsWith(".rels") && parts.containsKey(name.substring(0, name.length() - 5));
+    }
+
+    private static int[][] faultsOf(TreeMap<String, String> parts) {
+        List<int[]> faults = new ArrayList<>();
+        List<String> order = new ArrayList<>(parts.keySet());
+        for (String name : order) {
+            String told = parts.get(name + ".rels");
+            if (tells(parts, name) || told == null) {
+                continue;
+            }
+            MarkupOracle markup = new MarkupOracle(Kit.bytes(told));
+            if (markup.fault >= 0) {
+                faults.add(of(1, order.indexOf(name), markup.fault));
+            }
+            for (int k = 0; k < markup.ids.size(); k++) {
+                if (markup.ids.subList(0, k).contains(markup.ids.get(k))) {
+                    faults.add(of(2, order.indexOf(name), k));
+                }
+                if (!parts.containsKey(markup.tos.get(k))) {
+                    faults.add(of(3, order.indexOf(name), k));
+                }
+            }
+        }
+        Set<String> reached = new HashSet<>();
+        walk(parts, "root", reached);
+        for (String name : order) {
+            if (!tells(parts, name) && !reached.contains(name)) {
+                faults.add(of(4, order.indexOf(name), 0));
+            }
+        }
+        return faults.toArray(new int[0][]);
+    }
+
+    private static void walk(TreeMap<String, String> parts, String name, Set<String> reached) {
+        if (!parts.containsKey(name) || !reached.add(name) || tells(parts, name) || !parts.containsKey(name + ".rels")) {
+            return;
+        }
+        for (String goal : new MarkupOracle(Kit.bytes(parts.get(name + ".rels"))).tos) {
+            walk(parts, goal, reached);
+        }
+    }
+}

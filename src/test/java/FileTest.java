@@ -1,0 +1,93 @@
+import java.io.ByteArrayInputStream;
+import java.io.IOException;
+import java.util.Random;
+import java.util.TreeMap;
+import java.util.zip.ZipEntry;
+import java.util.zip.ZipInputStream;
+
+/** Promises 8, 9. */
+public final class FileTest {
+    public static void main(String[] args) throws IOException {
+        empty();
+        whole();
+        whatStays();
+        random();
+        Kit.end();
+    }
+
+    private static void empty() {
+        PackageBook book = new PackageBook();
+        Kit.dueThrow("before write", Kit.INDEX, () -> book.file(0));
+        byte[] want = {0x50, 0x4B, 5, 6, 0, 0, 0, 0, 0, 0, 0, 0, 0, 0, 0, 0, 0, 0, 0, 0, 0, 0};
+        Kit.due("no parts", Kit.written(book), want);
+        Kit.dueThrow("file(-1)", Kit.INDEX, () -> book.file(-1));
+        Kit.dueThrow("file(lowest)", Kit.INDEX, () -> book.file(Integer.MIN_VALUE));
+    }
+
+    private static void whole() throws IOException {
+        PackageBook book = new PackageBook();
+        byte[] high = new byte[300];
+        new Random(8).nextBytes(high);
+        Kit.add(book, "z/last.txt", Kit.filled("to be pressed ", 400));
+        Kit.add(book, "a", "");
+        Kit.add(book, "m", high);
+        // Pressed these four have four bytes, too: then they are kept as they are.
+        Kit.add(book, "same", "aaaa");
+        Kit.due("as many", PressOracle.press(Kit.bytes("aaaa")).length, 4);
+        Kit.add(book, "fewer", "aaaaa");
+        byte[] want = new Zip().fewest("a", new byte[0]).fewest("fewer", Kit.bytes("aaaaa")).fewest("m", high)
+            .part("same", "aaaa").fewest("z/last.txt", Kit.filled("to be pressed ", 400)).done();
+        byte[] got = Kit.written(book);
+        Kit.due("whole", got, want);
+        ZipInputStream zip = new ZipInputStream(new ByteArrayInputStream(got));
+        int i = 0;
+        for (ZipEntry e = zip.getNextEntry(); e != null; e = zip.getNextEntry()) {
+            Kit.due("entry", Kit.bytes(e.getName()), Kit.nameOf(book, i));
+            Kit.due("entry's bytes", zip.readAllBytes(), Kit.contentOf(book, i));
+            i++;
+        }
+        Kit.due("entries", i, 5);
+    }
+
+    private static void whatStays() {
+        PackageBook book = new PackageBook();
+        Kit.add(book, "a", "one");
+        byte[] before = Kit.written(book);
+        Kit.type(book, Kit.bytes("b2"));
+        Kit.due("write leaves the tape", book.write(), before.length);
+        Kit.due("the tape is there", book.add(1), 2);
+        Kit.due("no new file yet", book.file(before.length - 12), 1);
+        Kit.dueThrow("nor a longer one", Kit.INDEX, () -> book.file(before.length));
+        Kit.due("two parts", book.write() > before.length, true);
+        Kit.remove(book, "a");
+        Kit.remove(book, "b");
+        Kit.due("none again", Kit.written(book).length, 22);
+    }
+
+    private static void random() {
+        Random random = new Random(9);
+        for (int round = 0; round < 60; round++) {
+            PackageBook book = new PackageBook();
+            TreeMap<String, byte[]> parts = new TreeMap<>();
+            for (int k = random.nextInt(17); k > 0; k--) {
+                byte[] content = new byte[random.nextInt(random.nextInt(6) == 0 ? 700 : 40)];
+                int letters = 1 + random.nextInt(30);
+                for (int n = 0; n < content.length; n++) {
+                    content[n] = (byte) random.nextInt(letters);
+                }
+                String name = "p" + "._09az".charAt(random.nextInt(6)) + "x".repeat(random.nextInt(23));
+                parts.put(name, content);
+                Kit.due("round " + round, Kit.add(book, name, content), parts.size());
+            }
+            Zip zip = new Zip();
+            parts.forEach(zip::fewest);
+            byte[] want = zip.done();
+            Kit.due("round " + round, Kit.written(book), want);
+            if (want.length <= 8000) {
+                PackageBook other = new PackageBook();
+                Kit.due("round " + round + " read", Kit.read(other, want), 0);
+                Kit.due("round " + round + " again", Kit.written(other), want);
+            }
+        }
+    }
+}
