@@ -490,7 +490,7 @@ public final class PackageBook {
 
     /** What a check found. */
     private static final class Findings {
-        // A relation has 20 bytes at least and two faults at most; each part may have a fault of its markup, and one more.
+        // A relation has 20 bytes at least and two faults at most; a part may have its markup's, and one more.
         private static final int MOST = MOST_IN_ALL / 20 * 2 + MOST_PARTS * 2;
 
         private final int[] kinds = new int[MOST];
@@ -544,7 +544,7 @@ public final class PackageBook {
                     return false;
                 }
             }
-            return free == 0 || size == 1 && counts[1] == 1;
+            return free == 0 || (size == 1 && counts[1] == 1);
         }
     }
 
@@ -574,13 +574,19 @@ public final class PackageBook {
 
         Expander() {
             int[] fixed = new int[FIXED_FIRST + FIXED_SECOND];
-            Arrays.fill(fixed, 0, 144, 8);
-            Arrays.fill(fixed, 144, 256, 9);
-            Arrays.fill(fixed, 256, 280, 7);
-            Arrays.fill(fixed, 280, FIXED_FIRST, 8);
-            Arrays.fill(fixed, FIXED_FIRST, FIXED_FIRST + FIXED_SECOND, 5);
+            setAll(fixed, 0, 144, 8);
+            setAll(fixed, 144, 256, 9);
+            setAll(fixed, 256, 280, 7);
+            setAll(fixed, 280, FIXED_FIRST, 8);
+            setAll(fixed, FIXED_FIRST, FIXED_FIRST + FIXED_SECOND, 5);
             fixedFirst.tell(fixed, 0, FIXED_FIRST);
             fixedSecond.tell(fixed, FIXED_FIRST, FIXED_SECOND);
+        }
+
+        private static void setAll(int[] bits, int from, int end, int value) {
+            for (int k = from; k < end; k++) {
+                bits[k] = value;
+            }
         }
 
         /** How many bytes came out, or the fault, made negative. */
@@ -644,7 +650,7 @@ public final class PackageBook {
             readTold(firsts + seconds);
             first.tell(told, 0, firsts);
             second.tell(told, firsts, seconds);
-            if (!first.isRight() || told[END_SYMBOL] == 0 || second.size > 0 && !second.isRight()) {
+            if (!first.isRight() || told[END_SYMBOL] == 0 || (second.size > 0 && !second.isRight())) {
                 fail(4);
             }
         }
@@ -663,7 +669,7 @@ public final class PackageBook {
                     fail(4);
                 }
                 if (fault == 0) {
-                    Arrays.fill(told, k, k + times, value);
+                    setAll(told, k, k + times, value);
                     k += times;
                 }
             }
@@ -746,7 +752,7 @@ public final class PackageBook {
             // When all codes are passed, none can begin with these bits.
             for (int many = 1; many <= Code.MOST_BITS && passed < code.size && fault == 0; many++) {
                 if (at >= end) {
-                    fail(1);
+                    fault = 1;
                     return 0;
                 }
                 bits = 2 * bits + (row[at >> 3] >> (at & 7) & 1);
@@ -759,14 +765,14 @@ public final class PackageBook {
                 begin += here;
                 passed += here;
             }
-            fail(5);
+            fault = fault == 0 ? 5 : fault;
             return 0;
         }
 
         /** A number of so many bits, the lowest first; 0 behind a fault. */
         private int number(int bits) {
-            if (bits > end - at) {
-                fail(1);
+            if (fault == 0 && bits > end - at) {
+                fault = 1;
             }
             if (fault != 0) {
                 return 0;
@@ -1156,7 +1162,7 @@ public final class PackageBook {
         }
 
         private boolean readTail() {
-            if (isOpen && !readClose("</rels") || !skipGaps()) {
+            if ((isOpen && !readClose("</rels")) || !skipGaps()) {
                 return false;
             }
             if (at == end) {
@@ -1205,7 +1211,7 @@ public final class PackageBook {
             int from = at;
             skipLetters();
             boolean isId = isText(from, "id");
-            if (isId ? hasId : hasTo || !isText(from, "to")) {
+            if (isId ? hasId : (hasTo || !isText(from, "to"))) {
                 return fail(from);
             }
             if (!takeText("=")) {
