@@ -16,6 +16,7 @@ public final class ExpandTest {
         fixed();
         lengthsAndDistances();
         coded();
+        longCodes();
         codesThatAreNotRight();
         tooManyBytes();
         behindTheLast();
@@ -129,6 +130,25 @@ public final class ExpandTest {
         bits = new Bits().block(1, 2).coded(258, 1, THIRD).code(ONE).code(ZEROS).number(127, 7).code(ZEROS)
             .number(106, 7).code(TWO).code(TWO).code(ONE).code("0").code("11").code("0").code("10");
         due("the one bit", bits.done(), 4);
+    }
+
+    /** The first symbols have 1, 2, 3 .. bits, and each number of bits is told by a symbol of its own. */
+    private static Bits stairs(int most, int lastTold) {
+        int[] third = new int[16];
+        java.util.Arrays.fill(third, 4);
+        Bits bits = new Bits().block(1, 2).coded(257, 1, third);
+        for (int s = 0; s < 256; s++) {
+            bits.code(s < most ? s + 1 : 0, 4);
+        }
+        return bits.code(lastTold, 4).code(0, 4);
+    }
+
+    private static void longCodes() {
+        due("15 bits", stairs(15, 15).code("0").code("1".repeat(14) + "0").code("1".repeat(15)).done(), 2);
+        due("15 bits, bits left", stairs(14, 15).code("0").done(), -4);
+        due("15 bits, too many codes", stairs(15, 14).code("0").done(), -4);
+        due("14 bits", stairs(14, 14).code("1".repeat(13) + "0").code("1".repeat(14)).done(), 1);
+        due("bits end in a code", stairs(15, 15).code("1").done(), -1);
     }
 
     private static void codesThatAreNotRight() {

@@ -190,6 +190,14 @@ public final class MarkupTest {
             byte[] part = Kit.bytes(whole.substring(0, n));
             MarkupOracle oracle = new MarkupOracle(part);
             due(part, oracle.fault < 0 ? 2 : oracle.fault - 1000);
+            // Where the next part goes on with what is missing, that does not count.
+            PackageBook book = new PackageBook();
+            Kit.add(book, "root", "");
+            Kit.add(book, "root.rels", part);
+            Kit.add(book, "root.relsx", whole.substring(n));
+            Kit.due("cut at " + n, book.relations(0), oracle.fault < 0 ? 2 : -1);
+            book.check();
+            Kit.due("cut at " + n + ", place", book.fault(0, 0) == 1 ? book.fault(0, 2) : -1, oracle.fault);
         }
     }
 

@@ -57,12 +57,15 @@ public final class PressTest {
         Kit.due("tape taken", book.again(0), 0);
         Kit.due("stays", Kit.out(book, 7), before);
         due("4000", Kit.filled("ab", 4000));
+        // No three bytes come again, and each has nine bits.
         byte[] high = new byte[4000];
-        Random random = new Random(3);
-        for (int k = 0; k < high.length; k++) {
-            high[k] = (byte) (144 + random.nextInt(112));
+        for (int k = 0; k < high.length; k += 2) {
+            high[k] = (byte) (144 + 23 + k / 2 % 89);
+            high[k + 1] = (byte) (144 + k / 2 / 89);
         }
         due("nine bits each", high);
+        Kit.due("the most that can come out", Kit.press(book, high), 4502);
+        Kit.press(book, Kit.bytes("stays"));
         // What comes out of press is not changed by what write presses.
         Kit.press(book, Kit.bytes("stays"));
         Kit.add(book, "a", Kit.filled("abc", 100));
