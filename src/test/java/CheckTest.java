@@ -11,6 +11,7 @@ public final class CheckTest {
         root();
         relations();
         tellers();
+        namesThatAreLike();
         latest();
         questions();
         againstOracle();
@@ -97,6 +98,21 @@ public final class CheckTest {
         Kit.add(book, ".rels", "");
         Kit.add(book, "b/.rels", "");
         due("relations of none", book, of(3, 1, 1), of(3, 1, 2), of(4, 0, 0), of(4, 4, 0));
+    }
+
+    private static void namesThatAreLike() {
+        PackageBook book = new PackageBook();
+        Kit.add(book, "a", "");
+        Kit.add(book, "a.relx", "");
+        Kit.add(book, "axrels", "<");
+        Kit.add(book, "b.rels", "<");
+        Kit.add(book, "r/root", "");
+        Kit.add(book, "roof", "");
+        Kit.add(book, "root0", "");
+        due("like root and relations", book, of(4, 0, 0), of(4, 1, 0), of(4, 2, 0), of(4, 3, 0), of(4, 4, 0), of(4, 5, 0), of(4, 6, 0));
+        for (int i = 0; i < 7; i++) {
+            Kit.due("no relations " + i, book.relations(i), 0);
+        }
     }
 
     private static void latest() {

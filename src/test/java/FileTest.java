@@ -10,6 +10,7 @@ public final class FileTest {
     public static void main(String[] args) throws IOException {
         empty();
         whole();
+        largest();
         whatStays();
         random();
         Kit.end();
@@ -47,6 +48,25 @@ public final class FileTest {
             i++;
         }
         Kit.due("entries", i, 5);
+    }
+
+    private static void largest() {
+        PackageBook book = new PackageBook();
+        Zip zip = new Zip();
+        Random random = new Random(14006);
+        for (int k = 0; k < 16; k++) {
+            byte[] content = new byte[750];
+            random.nextBytes(content);
+            String name = "abcdefghijklmnopqrstuvw" + (char) ('a' + k);
+            Kit.add(book, name, content);
+            zip.fewest(name, content);
+        }
+        Kit.due("in all", book.about(3, 0), 12000);
+        byte[] got = Kit.written(book);
+        Kit.due("the most that a file has", got.length, 14006);
+        Kit.due("largest", got, zip.done());
+        Kit.due("its last byte", book.reread(14005, 1), 1);
+        Kit.due("read again", book.reread(14005, 0), 0);
     }
 
     private static void whatStays() {

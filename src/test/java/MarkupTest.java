@@ -112,6 +112,10 @@ public final class MarkupTest {
         fault("<rels><rel id='x' to='a' x='a'/></rels>", 25);
         fault("<rels><rel idx='x' to='a'/></rels>", 11);
         fault("<rels><rel i='x' to='a'/></rels>", 11);
+        fault("<rels><rel idz='x' to='a'/></rels>", 11);
+        fault("<rels><rel ida='x' to='a'/></rels>", 11);
+        fault("<rels><rel id{='x' to='a'/></rels>", 13);
+        fault("<rels><rel id`='x' to='a'/></rels>", 13);
         fault("<rels><rel i", 11);
         fault("<rels><rel id", 13);
         fault("<rels><rel ID='x' to='a'/></rels>", 11);
@@ -143,6 +147,8 @@ public final class MarkupTest {
         fault("<rels><rel id='&x;'", 16);
         fault("<rels><rel id='&am", 16);
         fault("<rels><rel id='&ampx;'", 16);
+        fault("<rels><rel id='&ampz;'", 16);
+        fault("<rels><rel id='&amp1;'", 19);
         fault("<rels><rel id='&amp'", 19);
         fault("<rels><rel id='&amp", 19);
         fault("<rels><rel id='&AMP;'", 16);
