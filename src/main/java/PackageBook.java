@@ -1187,8 +1187,8 @@ public final class PackageBook {
             hasId = false;
             hasTo = false;
             boolean spaced = skipSpace();
-            // The third one is a fault in any case, since there are two names.
-            for (int k = 0; k < 3 && next(0) != '/' && next(0) != '>'; k++) {
+            // There are two names: a third attribute is a fault where it begins, as anything but / and > is there.
+            for (int k = 0; k < 2 && next(0) != '/' && next(0) != '>'; k++) {
                 if (!spaced) {
                     return fail(at);
                 }
