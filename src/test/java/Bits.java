@@ -57,6 +57,35 @@ final class Bits {
         return this;
     }
 
+    /** How many bits there are. */
+    int size() {
+        return 8 * bytes.size() + many;
+    }
+
+    /** Symbols that make so many bytes, each the same, behind one that is there. */
+    Bits more(int n) {
+        int left = n;
+        while (left > 0) {
+            int length = left > 260 ? 258 : left > 258 ? left - 3 : left;
+            length(length).distance(0);
+            left -= length;
+        }
+        return this;
+    }
+
+    /** The length's symbol of FIXED and its number; 258 as symbol 285. */
+    Bits length(int length) {
+        if (length == 258) {
+            return fixed(285);
+        }
+        int value = length - 3;
+        int e = 0;
+        while (value >> e >= 8) {
+            e++;
+        }
+        return fixed(257 + 4 * e + (value >> e)).number(value, e);
+    }
+
     byte[] done() {
         align();
         return bytes.toByteArray();

@@ -16,12 +16,16 @@ final class Kit {
         void run();
     }
 
+    private static void tell(String text) {
+        wrong++;
+        if (wrong <= 50) {
+            System.out.println(text);
+        }
+    }
+
     static void due(String what, long got, long want) {
         if (got != want) {
-            wrong++;
-            if (wrong <= 50) {
-                System.out.println(what + ": answered " + got + ", due is " + want);
-            }
+            tell(what + ": answered " + got + ", due is " + want);
         }
     }
 
@@ -36,6 +40,12 @@ final class Kit {
         }
     }
 
+    static void due(String what, String got, String want) {
+        if (!got.equals(want)) {
+            tell(what + ": is '" + got + "', due is '" + want + "'");
+        }
+    }
+
     static void dueThrow(String what, Class<?> want, Call call) {
         Class<?> got = null;
         try {
@@ -44,8 +54,7 @@ final class Kit {
             got = e.getClass();
         }
         if (got != want) {
-            wrong++;
-            System.out.println(what + ": threw " + got + ", due is " + want);
+            tell(what + ": threw " + got + ", due is " + want);
         }
     }
 
