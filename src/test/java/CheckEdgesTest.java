@@ -249,6 +249,16 @@ public final class CheckEdgesTest {
     private static void notReachedThroughRelations() {
         due("through a.rels", new Run().with("a", "").with("a.rels", "<rels/>").with("a.rels.rels", to("b")).with("b", "")
             .with("root", "").with("root.rels", to("a", "a.rels")), "4.3.0");
+        // Neither what they tell nor what an earlier check found counts.
+        Run run = new Run().with("a", "").with("b.rels", "<rels/>").with("b.rels.rels", to("a")).with("root", "").with("root.rels", to("b.rels"));
+        due("through a part that is no relations yet", run, "");
+        run.add("b", "");
+        due("through relations", run, "4.0.0 4.1.0");
+        run.add("0", "");
+        due("with another part", run, "4.0.0 4.1.0 4.2.0");
+        run.remove("a");
+        run.remove("0");
+        due("nor the first part", run, "4.0.0");
         // Without the part a it is no relations, and b is reached.
         due("through a part like others", new Run().with("a.rels", "<rels/>").with("a.rels.rels", to("b")).with("b", "")
             .with("root", "").with("root.rels", to("a.rels")), "");

@@ -15,6 +15,7 @@ public final class FileEdgesTest {
         partsInOrder();
         sixteenPartsWithLongNames();
         twelveThousandBytes();
+        fourThousandBytesAsTheyAre();
         byteBeforeWrite();
         byteBeyondTheFile();
         fileThatWasWrittenLast();
@@ -150,6 +151,18 @@ public final class FileEdgesTest {
         Kit.due("read again", run.reread(0, 0), 0);
         Kit.due("12000", run.about(3, 0), 12000);
         Kit.due("the last byte", run.byteOf(2, 4000), 'b');
+    }
+
+    private static void fourThousandBytesAsTheyAre() {
+        byte[] row = new byte[4000];
+        new Random(4000).nextBytes(row);
+        Run run = new Run().with("a", row);
+        Kit.due("how many", run.write(), 31 + 4000 + 47 + 22);
+        Kit.due("as they are", run.file(8), 0);
+        Kit.due("the last byte", run.file(31 + 3999), row[3999] & 255);
+        Kit.due("the directory", run.file(31 + 4000), 0x50);
+        Kit.due("read again", run.reread(0, 0), 0);
+        Kit.due("the last byte", run.byteOf(0, 4000), row[3999] & 255);
     }
 
     // "(before write() there is none)"

@@ -72,6 +72,7 @@ public final class MarkupEdgesTest {
         Kit.dueThrow(what + ": no relation", Kit.INDEX, () -> run.relation(1, 0));
         // The markup, and a part that can't be reached then.
         Kit.due(what + ": faults", run.checked(), "1.1." + place + " 4.0.0");
+        Kit.due("a right one instead of it", run.with("root.rels", "<rels>" + ELEMENT + "</rels>").relations(1), 1);
     }
 
     private static void fault(String markup, int place) {

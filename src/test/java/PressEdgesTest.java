@@ -16,6 +16,7 @@ public final class PressEdgesTest {
         everyDistance();
         zerosToTheEndOfTheByte();
         upTo4000();
+        mostThatComesOut();
         moreThan4000();
         outOfNothing();
         outBeyond();
@@ -180,6 +181,26 @@ public final class PressEdgesTest {
         Run run = new Run();
         Kit.due("3999", run.tape(Kit.filled("abc", 3999)).press() > 0, true);
         Kit.due("4000", run.tape(Kit.filled("abc", 4000)).press() > 0, true);
+    }
+
+    private static void mostThatComesOut() {
+        // No three bytes come again, and each has nine bits: with the three before and the end it is 4502 bytes.
+        byte[] row = new byte[4000];
+        for (int k = 0; k < row.length; k += 2) {
+            row[k] = (byte) (167 + k / 2 % 89);
+            row[k + 1] = (byte) (144 + k / 2 / 89);
+        }
+        Bits bits = begun();
+        for (byte b : row) {
+            bits.fixed(b & 255);
+        }
+        byte[] want = bits.fixed(256).done();
+        Run run = new Run().tape(row);
+        Kit.due("how many", run.press(), 4502);
+        for (int at : new int[] {0, 1, 4499, 4500, 4501}) {
+            Kit.due("byte " + at, run.out(at), want[at] & 255);
+        }
+        Kit.dueThrow("no more", Kit.INDEX, () -> run.out(4502));
     }
 
     // "(what came out before stays)"

@@ -55,6 +55,8 @@ public final class ReadingEdgesTest {
         run.dueTaken(what);
         if (want != 0) {
             Kit.due(what + " changes nothing", run.seen(), OLD);
+            Kit.due("a right one behind it", run.tape(two().done()).read(), 0);
+            Kit.due("its parts", run.names(), "a b");
         }
     }
 

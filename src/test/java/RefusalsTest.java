@@ -70,6 +70,23 @@ public final class RefusalsTest {
     private static void dueLeft(String what, Run run, byte[] tape, boolean isTaken) {
         run.dueTape(what, isTaken ? new byte[0] : tape);
         Kit.due(what + " changes nothing", run.seen(), SEEN);
+        dueGoesOn(what, run);
+    }
+
+    /** What was refused is not remembered: each call answers as it would without it. */
+    private static void dueGoesOn(String what, Run run) {
+        Kit.due(what + ", then type", run.type(0x6968FFFD000201L, 7), 7);
+        Kit.due(what + ", then expand", run.expand(), 2);
+        Kit.due(what + ", then out", run.out(), "hi");
+        Kit.due(what + ", then press", run.tape("aaaa").press(), 4);
+        Kit.due(what + ", then sum", run.tape("123456789").sum(), 0xCBF43926);
+        Kit.due(what + ", then add", run.add("c", "3"), 4);
+        Kit.due(what + ", then relations", run.relations(2), 2);
+        Kit.due(what + ", then check", run.checked(), "3.2.0 4.0.0 4.1.0");
+        Kit.due(what + ", then reread", run.reread(0, 0), 0);
+        Kit.due(what + ", then read", run.tape(new Zip().fewest("n", Kit.filled("n", 20)).done()).read(), 0);
+        Kit.due(what + ", then write", run.write(), 31 + 4 + 47 + 22);
+        Kit.due(what + ", then remove", run.remove("n"), true);
     }
 
     private static byte[] tape(String text) {

@@ -27,6 +27,7 @@ public final class StreamEdgesTest {
         headsBitsEnd();
         orderOfTheThird();
         lessOfTheThird();
+        lessOfTheThirdBehindMore();
         thirdThatIsNotRight();
         thirdOfOneSymbol();
         sixteenWithNoneBefore();
@@ -67,6 +68,7 @@ public final class StreamEdgesTest {
         run.dueTaken(what);
         if (want < 0) {
             Kit.due(what + ": what came out before stays", run.out(), before);
+            Kit.due("a right one behind it", run.tape("\u0001\u0002\u0000\u00fd\u00ffhi").expand(), 2);
             return "";
         }
         if (want > 300) {
@@ -513,6 +515,27 @@ public final class StreamEdgesTest {
         }
     }
 
+    /** A block with the byte 15 and the end, whose third code is told without its last symbol. */
+    private static Bits withoutTheLast(Bits bits, int last) {
+        bits.block(last, 2).number(0, 5).number(0, 5).number(14, 4);
+        int[] third = {0, 0, 2, 2, 0, 0, 0, 0, 0, 0, 0, 0, 0, 0, 0, 0, 0, 1};
+        for (int many : third) {
+            bits.number(many, 3);
+        }
+        // 1 is 0, 0 is 10, 18 is 11.
+        bits.code("11").number(4, 7).code("0").code("11").number(127, 7).code("11").number(91, 7).code("0").code("10");
+        return bits.code("0").code("1");
+    }
+
+    private static void lessOfTheThirdBehindMore() {
+        due("alone", withoutTheLast(new Bits(), 1), "\u000f");
+        due("behind one that told it", withoutTheLast(withoutTheLast(new Bits(), 0), 1), "\u000f\u000f");
+        Run run = new Run().tape(withoutTheLast(new Bits(), 1).done());
+        Kit.due("one stream", run.expand(), 1);
+        Kit.due("another one behind it", run.tape(withoutTheLast(new Bits(), 1).done()).expand(), 1);
+        Kit.due("its byte", run.out(0), 15);
+    }
+
     private static Bits third(Bits bits, int sixteen, int seventeen, int eighteen, int zero) {
         return bits.block(1, 2).number(0, 5).number(0, 5).number(0, 4).number(sixteen, 3).number(seventeen, 3)
             .number(eighteen, 3).number(zero, 3);
@@ -568,6 +591,9 @@ public final class StreamEdgesTest {
         due("4 times", tell(tell(lengthAndEnd(7), 3, 16).number(1, 2), 2, 3).code("1").code("010").code("0").done(), 4);
         due("5 times", tell(tell(lengthAndEnd(7), 3, 16).number(2, 2), 2).code("1").code("010").code("0").done(), 4);
         due("6 times", tell(tell(lengthAndEnd(8), 3, 16).number(3, 2), 3).code("1").code("000").code("0").done(), 4);
+        // The very first one again.
+        Bits first = tell(zeros(tell(coded(257, 1), 3, 16).number(3, 2), 249), 3, 0);
+        due("of the first symbol", first.code("001").code("110").code("000").code("111"), "\u0001\u0006\u0000");
         // A zero again.
         due("zeros", tell(tell(lengthAndEnd(6), 1, 0, 16).number(0, 2), 1).code("1").code("0").code("0").done(), 4);
         due("a 16 behind a 16", tell(tell(tell(lengthAndEnd(8), 3, 16).number(0, 2), 16).number(1, 2)).code("1").code("000")
