@@ -15,6 +15,7 @@ public final class FileEdgesTest {
         partsInOrder();
         sixteenPartsWithLongNames();
         twelveThousandBytes();
+        theLastOf12000Bytes();
         fourThousandBytesAsTheyAre();
         byteBeforeWrite();
         byteBeyondTheFile();
@@ -151,6 +152,15 @@ public final class FileEdgesTest {
         Kit.due("read again", run.reread(0, 0), 0);
         Kit.due("12000", run.about(3, 0), 12000);
         Kit.due("the last byte", run.byteOf(2, 4000), 'b');
+    }
+
+    private static void theLastOf12000Bytes() {
+        byte[] most = Kit.filled("ab", 4000);
+        byte[] last = Kit.join(Kit.filled("ab", 3997), Kit.bytes("xyz"));
+        Run run = new Run().with("a", most).with("b", most).with("c", last);
+        due("its last bytes", run, new Zip().fewest("a", most).fewest("b", most).fewest("c", last).done());
+        Kit.due("read again", run.reread(0, 0), 0);
+        Kit.due("the last byte", run.byteOf(2, 4000), 'z');
     }
 
     private static void fourThousandBytesAsTheyAre() {

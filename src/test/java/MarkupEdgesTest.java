@@ -6,6 +6,9 @@ public final class MarkupEdgesTest {
 
     public static void main(String[] args) {
         theSizeWhereItEndsTooEarly();
+        theFirstByteThatCantBeSo();
+        whatStandsBehindTheMarkup();
+        theLastOf12000Bytes();
         gapsAreFourBytes();
         gapsStandBetween();
         spaceIsFourBytes();
@@ -100,6 +103,68 @@ public final class MarkupEdgesTest {
         }
         right(whole + " ", 2);
         fault(whole + " <", whole.length() + 2);
+    }
+
+    // What would be right if that byte were not there, and what is wrong behind it, does not count.
+    private static void theFirstByteThatCantBeSo() {
+        String whole = "<rels>" + ELEMENT + "</rels>";
+        faultBehind("<!", whole);
+        faultBehind("<!-", whole);
+        faultBehind("<!--x--", whole);
+        faultBehind("<!", "<rels>x");
+        faultBehind("<rels><!", "</rels>");
+        faultBehind("<rels><!", ELEMENT + "</rels>");
+        faultBehind("<rels><!-", "</rels>x");
+        faultBehind("<rels>" + ELEMENT + "<!--x--", "</rels>");
+        faultBehind("<rels><rel id='x' to='a'><!", "</rel></rels>");
+        faultBehind(whole + "<!", "");
+        faultBehind(whole + "<!", "<!--x-->");
+        faultBehind("", "x" + whole + "x");
+        faultBehind("<rels>", "x" + ELEMENT + "x</rels>");
+        faultBehind("<rels><rel ", "x='' id='' to=''/></rels>");
+        faultBehind("<rels><rel id='", "' to=''/></rels>");
+    }
+
+    /** Of the markup's begin the place is due, though the next part goes on as it could go on. */
+    private static void dueCut(String begun, String next, int place) {
+        Run run = new Run().with("a", "").with("root", "").with("root.rels", begun).with("root.relsx", next);
+        Kit.due(begun + " and " + next, run.relations(1), -1);
+        Kit.due(begun + " and " + next, run.checked(), "1.1." + place + " 4.0.0 4.3.0");
+    }
+
+    private static void whatStandsBehindTheMarkup() {
+        String whole = "<!--c--><rels ><rel id='&lt;&#65;' to='a'> </rel ><rel to='a' id='y' /></rels >";
+        right(whole, 2);
+        for (int n = 0; n < whole.length(); n++) {
+            int place = n;
+            for (String word : new String[] {"i", "t", "l"}) {
+                place = whole.substring(0, n).endsWith(" " + word) || whole.substring(0, n).endsWith("&" + word) ? n - 1 : place;
+            }
+            dueCut(whole.substring(0, n), whole.substring(n), whole.substring(0, n).endsWith("#6") ? n - 1 : place);
+        }
+        dueCut("<rels/><", "!--x-->", 8);
+        dueCut("<rels/><!--x-", "->", 13);
+        // Behind a right markup other parts' bytes are no fault.
+        Run run = new Run().with("a", "").with("root", "").with("root.rels", "<rels/>").with("root.relsx", "x");
+        Kit.due("right", run.relations(1), 0);
+    }
+
+    // "12000 in all": no byte is behind the last one
+    private static void theLastOf12000Bytes() {
+        byte[] most = Kit.filled("ab", 4000);
+        for (String end : new String[] {"<", "<!", "<!-", "<!--", "<!--x-", "<rels", "<rels/", "<rels/><", "<rels><rel i", "<rels><rel id='&am",
+            "<rels><rel id='&#6", "<rels><rel id='&", "<rels><rel id=", "<rels><", "<rels><rel id='x' to='a'/", "<rels><rel id='x' to='a'><"}) {
+            Run run = new Run().with("a", most).with("b", most).with("root", "");
+            run.add("root.rels", Kit.join(Kit.filled(" ", 4000 - end.length()), Kit.bytes(end)));
+            Kit.due("12000", run.about(3, 0), 12000);
+            Kit.due("ends with " + end, run.relations(2), -1);
+            Kit.due("a fault of the markup", run.check() > 0 && run.fault(0, 0) == 1, true);
+            boolean isWord = end.endsWith("i") || end.endsWith("am") || end.endsWith("6");
+            Kit.due("its place", run.fault(0, 2), end.endsWith("am") ? 3998 : isWord ? 3999 : 4000);
+        }
+        Run run = new Run().with("a", most).with("b", most).with("root", "");
+        run.add("root.rels", Kit.join(Kit.filled(" ", 3993), Kit.bytes("<rels/>")));
+        Kit.due("a right one", run.relations(2), 0);
     }
 
     // "GAPS are bytes 32, 9, 10, 13 and COMMENTS"
@@ -497,7 +562,7 @@ public final class MarkupEdgesTest {
             faultBehind(OPEN + "&#", digits + ";' to='a'/></rels>");
             faultBehind(OPEN + "&#", digits);
         }
-        for (String none : new String[] {";", "'", "x41;", " 65;", "-65;", "+65;", "a;", ":;", "/;", "#65;"}) {
+        for (String none : new String[] {";", "'", "x41;", " 65;", "-65;", "+65;", "a;", ":;", "/;", "#65;", "6/;", "6:;", "1/0;", "3/;", "9:;", "1:;"}) {
             faultBehind(OPEN + "&#", none + "' to='a'/></rels>");
         }
         faultBehind(OPEN + "&#", "");

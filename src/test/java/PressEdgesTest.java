@@ -106,6 +106,10 @@ public final class PressEdgesTest {
 
     private static void longestThoughFurther() {
         due("longer, further", "abcdxabcyabcd", go(begun("abcdx").fixed(257).distance(4).number(0, 1), "y").fixed(258).distance(6).number(0, 2));
+        due("not from the begin on", "zabcdxabcyabcd",
+            go(begun("zabcdx").fixed(257).distance(4).number(0, 1), "y").fixed(258).distance(6).number(0, 2));
+        due("the furthest of three", "zabcdexabcdyabcwabcde", go(go(begun("zabcdex").fixed(258).distance(4).number(1, 1), "y")
+            .fixed(257).distance(4).number(0, 1), "w").fixed(259).distance(7).number(2, 2));
         // A nearer one that is as long counts.
         due("as long, nearer", "abcdxabcdyabcd", go(begun("abcdx").fixed(258).distance(4).number(0, 1), "y").fixed(258).distance(4).number(0, 1));
     }

@@ -145,6 +145,11 @@ public final class ReadingEdgesTest {
         Kit.due("read", run.read(), 0);
         Kit.due("in all", run.about(3, 0), 7822);
         Kit.due("the last byte", run.byteOf(1, 3822), 'z');
+        // Nothing behind the tape is an entry.
+        due("one entry more said", with(file, 7986, 3, 0, 3, 0), 2);
+        due("many more said", with(file, 7986, 255, 255, 255, 255), 2);
+        due("the last entry goes on", with(file, 7931 + 28, 2), 2);
+        due("no end", Kit.filled("PK", 8000), 1);
     }
 
     // "(or there are not so many)"
@@ -223,6 +228,7 @@ public final class ReadingEdgesTest {
         due("the last name's count is less", with(file(), 120 + 28, 0), 2);
         due("the first name's count is more", with(file(), 73 + 28, 2), 2);
         due("the first one has all", with(file(), 73 + 28, 48), 2);
+        due("the first name's count is as much as it can be", with(file(), 73 + 28, 255, 255), 2);
         // 45 bytes of a second entry: one less than an entry without a name has.
         byte[] entry = Zip.entryOf(new Zip.Part("", new byte[0]));
         for (int n = 40; n <= 47; n++) {
