@@ -50,6 +50,11 @@ public final class CheckEdgesTest {
         return text.append("</rels>").toString();
     }
 
+    /** Root alone, and what tells its relations. */
+    private static Run root(String told) {
+        return new Run().with("root", "").with("root.rels", told);
+    }
+
     private static void due(String what, Run run, String want) {
         Kit.due(what, run.checked(), want);
     }
@@ -64,8 +69,8 @@ public final class CheckEdgesTest {
     // "is not called root"
     private static void rootAlone() {
         due("root", new Run().with("root", ""), "");
-        due("root with no relations told", new Run().with("root", "").with("root.rels", "<rels/>"), "");
-        due("root to itself", new Run().with("root", "").with("root.rels", to("root")), "");
+        due("root with no relations told", root("<rels/>"), "");
+        due("root to itself", root(to("root")), "");
     }
 
     // "without a part root all (but relations)"
@@ -93,7 +98,7 @@ public final class CheckEdgesTest {
 
     // "all parts that are no relations themselves (their name less .rels is that of no part)"
     private static void relationsThemselvesAreNotLookedAt() {
-        Run run = new Run().with("root", "").with("root.rels", "<rels/>").with("root.rels.rels", "<");
+        Run run = root("<rels/>").with("root.rels.rels", "<");
         due("what tells the relations of relations", run, "");
         Kit.due("though it has a fault", run.relations(1), -1);
         run.add("root.rels.rels", ids("x", "x"));
@@ -118,8 +123,8 @@ public final class CheckEdgesTest {
         due("no a", new Run().with("a.rels", "<").with("root", ""), "4.0.0");
         due("no name is left", new Run().with(".rels", "<").with("root", ""), "4.0.0");
         due("a piece", new Run().with("a/.rels", "<").with("root", ""), "4.0.0");
-        due("another end", new Run().with("a", "").with("a.rel", "").with("a.relsx", "").with("arels", "").with("a/rels", "").with("a_rels", ""),
-            "4.0.0 4.1.0 4.2.0 4.3.0 4.4.0 4.5.0");
+        due("another end", new Run().with("a", "").with("a.rel", "").with("a.relsx", "").with("arels", "").with("a/rels", "")
+            .with("a_rels", ""), "4.0.0 4.1.0 4.2.0 4.3.0 4.4.0 4.5.0");
         String most = LONGEST.substring(0, 19);
         due("24 bytes", new Run().with(most, "").with(most + ".rels", "<rels/>"), "4.0.0");
         due("24 bytes of none", new Run().with(most.substring(1), "").with(most + ".rels", "<rels/>"), "4.0.0 4.1.0");
@@ -127,13 +132,13 @@ public final class CheckEdgesTest {
 
     // "the markup (1)", "for a markup its place"
     private static void theMarkup() {
-        due("no byte", new Run().with("root", "").with("root.rels", ""), "1.0.0");
-        due("the first byte", new Run().with("root", "").with("root.rels", "x"), "1.0.0");
-        due("the last byte", new Run().with("root", "").with("root.rels", "<rels/>x"), "1.0.7");
-        due("behind the last byte", new Run().with("root", "").with("root.rels", "<rels>"), "1.0.6");
-        due("4000 bytes", new Run().with("root", "").with("root.rels", Kit.filled(" ", 4000)), "1.0.4000");
+        due("no byte", root(""), "1.0.0");
+        due("the first byte", root("x"), "1.0.0");
+        due("the last byte", root("<rels/>x"), "1.0.7");
+        due("behind the last byte", root("<rels>"), "1.0.6");
+        due("4000 bytes", root(" ".repeat(4000)), "1.0.4000");
         due("of a part that is not reached", new Run().with("a", "").with("a.rels", "<").with("root", ""), "1.0.1 4.0.0");
-        due("two of them", new Run().with("a", "").with("a.rels", "<").with("root", "").with("root.rels", "<rel"), "1.0.1 1.2.4 4.0.0");
+        due("two of them", root("<rel").with("a", "").with("a.rels", "<"), "1.0.1 1.2.4 4.0.0");
     }
 
     // "A part whose markup has a fault has no relations."
@@ -148,23 +153,23 @@ public final class CheckEdgesTest {
 
     // "an id that stood before among the same relations (2)"
     private static void anIdThatStoodBefore() {
-        due("once", new Run().with("root", "").with("root.rels", ids("x", "y")), "");
-        due("twice", new Run().with("root", "").with("root.rels", ids("x", "x")), "2.0.1");
-        due("three times", new Run().with("root", "").with("root.rels", ids("x", "x", "x")), "2.0.1 2.0.2");
-        due("with others between", new Run().with("root", "").with("root.rels", ids("x", "y", "z", "x", "y")), "2.0.3 2.0.4");
-        due("of one byte and of eight", new Run().with("root", "").with("root.rels", ids("1", "12345678", "1", "12345678")), "2.0.2 2.0.3");
-        due("written otherwise", new Run().with("root", "").with("root.rels", ids("&amp;", "&#38;")), "2.0.1");
-        due("the other way round", new Run().with("root", "").with("root.rels", "<rels><rel to='root' id='x'/><rel id=\"x\" to='root'/></rels>"),
+        due("once", root(ids("x", "y")), "");
+        due("twice", root(ids("x", "x")), "2.0.1");
+        due("three times", root(ids("x", "x", "x")), "2.0.1 2.0.2");
+        due("with others between", root(ids("x", "y", "z", "x", "y")), "2.0.3 2.0.4");
+        due("of one byte and of eight", root(ids("1", "12345678", "1", "12345678")), "2.0.2 2.0.3");
+        due("written otherwise", root(ids("&amp;", "&#38;")), "2.0.1");
+        due("the other way round", root("<rels><rel to='root' id='x'/><rel id=\"x\" to='root'/></rels>"),
             "2.0.1");
     }
 
     private static void idsThatAreNotTheSame() {
-        due("longer", new Run().with("root", "").with("root.rels", ids("x", "xx", "xxx", "xxxxxxx", "xxxxxxxx")), "");
-        due("capitals", new Run().with("root", "").with("root.rels", ids("x", "X")), "");
-        due("spaces", new Run().with("root", "").with("root.rels", ids("x", "x ", " x", " ", "  ")), "");
-        due("the first byte", new Run().with("root", "").with("root.rels", ids("a2345678", "b2345678")), "");
-        due("the last byte", new Run().with("root", "").with("root.rels", ids("1234567a", "1234567b")), "");
-        due("what it goes to", new Run().with("root", "").with("root.rels", "<rels><rel id='x' to='root'/><rel id='root' to='root'/></rels>"), "");
+        due("longer", root(ids("x", "xx", "xxx", "xxxxxxx", "xxxxxxxx")), "");
+        due("capitals", root(ids("x", "X")), "");
+        due("spaces", root(ids("x", "x ", " x", " ", "  ")), "");
+        due("the first byte", root(ids("a2345678", "b2345678")), "");
+        due("the last byte", root(ids("1234567a", "1234567b")), "");
+        due("what it goes to", root("<rels><rel id='x' to='root'/><rel id='root' to='root'/></rels>"), "");
     }
 
     private static void idsOfOtherRelations() {
@@ -174,25 +179,25 @@ public final class CheckEdgesTest {
 
     // "a to that is no part (3 ..)"
     private static void aToThatIsNoPart() {
-        due("none", new Run().with("root", "").with("root.rels", to("none")), "3.0.0");
-        due("the last one", new Run().with("root", "").with("root.rels", to("root", "root", "none")), "3.0.2");
-        due("each of them", new Run().with("root", "").with("root.rels", to("a", "b", "c")), "3.0.0 3.0.1 3.0.2");
-        due("the same twice", new Run().with("root", "").with("root.rels", to("a", "a")), "3.0.0 3.0.1");
-        due("one that begins so", new Run().with("root", "").with("root.rels", to("roo", "root0", "root.", "a/root")),
+        due("none", root(to("none")), "3.0.0");
+        due("the last one", root(to("root", "root", "none")), "3.0.2");
+        due("each of them", root(to("a", "b", "c")), "3.0.0 3.0.1 3.0.2");
+        due("the same twice", root(to("a", "a")), "3.0.0 3.0.1");
+        due("one that begins so", root(to("roo", "root0", "root.", "a/root")),
             "3.0.0 3.0.1 3.0.2 3.0.3");
-        due("24 bytes", new Run().with("root", "").with("root.rels", to(LONGEST)), "3.0.0");
+        due("24 bytes", root(to(LONGEST)), "3.0.0");
     }
 
     private static void aToThatIsAPart() {
-        due("itself", new Run().with("root", "").with("root.rels", to("root")), "");
-        due("relations", new Run().with("root", "").with("root.rels", to("root.rels")), "");
+        due("itself", root(to("root")), "");
+        due("relations", root(to("root.rels")), "");
         due("24 bytes", new Run().with(LONGEST, "").with("root", "").with("root.rels", to(LONGEST)), "");
         due("the same twice", new Run().with("a", "").with("root", "").with("root.rels", to("a", "a")), "");
     }
 
     // "(of one relation 2 and 3 both, in this order)"
     private static void twoAndThreeInThisOrder() {
-        due("both", new Run().with("root", "").with("root.rels", "<rels><rel id='x' to='a'/><rel id='x' to='b'/></rels>"),
+        due("both", root("<rels><rel id='x' to='a'/><rel id='x' to='b'/></rels>"),
             "3.0.0 2.0.1 3.0.1");
         // "the relations of each in the order in which they stand"
         due("relation by relation", new Run().with("root", "").with("root.rels",
@@ -202,19 +207,19 @@ public final class CheckEdgesTest {
 
     // "in order", "the part told is the one whose relations they are"
     private static void inTheOrderOfParts() {
-        due("three parts", new Run().with("root", "").with("root.rels", to("b", "none", "a")).with("b", "").with("b.rels", "<")
+        due("three parts", root(to("b", "none", "a")).with("b", "").with("b.rels", "<")
             .with("a", "").with("a.rels", ids("x", "x")), "2.0.1 1.2.1 3.4.1");
     }
 
     // "Behind all of these, in order: a part that .. can't be reached from root by relations .. (4)"
     private static void unreachedBehindAllOfThese() {
-        due("behind", new Run().with("a", "").with("b", "").with("c", "").with("c.rels", to("none")).with("root", "").with("root.rels", to("b", "nor")),
+        due("behind", root(to("b", "nor")).with("a", "").with("b", "").with("c", "").with("c.rels", to("none")),
             "3.2.0 3.4.1 4.0.0 4.2.0");
     }
 
     private static void reachedByMoreThanOne() {
         // From root on to the one that stands first in order, one by one.
-        Run run = new Run().with("root", "").with("root.rels", to("g"));
+        Run run = root(to("g"));
         for (char c = 'g'; c > 'a'; c--) {
             run.add("" + c, "");
             run.add(c + ".rels", to("" + (char) (c - 1)));
@@ -223,7 +228,7 @@ public final class CheckEdgesTest {
         due("backward", run, "");
         run.add("d.rels", to("e"));
         due("cut", run, "4.0.0 4.1.0 4.3.0");
-        Run forward = new Run().with("root", "").with("root.rels", to("s"));
+        Run forward = root(to("s"));
         for (char c = 's'; c < 'y'; c++) {
             forward.add("" + c, "");
             forward.add(c + ".rels", to("" + (char) (c + 1)));
@@ -250,7 +255,7 @@ public final class CheckEdgesTest {
         due("through a.rels", new Run().with("a", "").with("a.rels", "<rels/>").with("a.rels.rels", to("b")).with("b", "")
             .with("root", "").with("root.rels", to("a", "a.rels")), "4.3.0");
         // Neither what they tell nor what an earlier check found counts.
-        Run run = new Run().with("a", "").with("b.rels", "<rels/>").with("b.rels.rels", to("a")).with("root", "").with("root.rels", to("b.rels"));
+        Run run = root(to("b.rels")).with("a", "").with("b.rels", "<rels/>").with("b.rels.rels", to("a"));
         due("through a part that is no relations yet", run, "");
         run.add("b", "");
         due("through relations", run, "4.0.0 4.1.0");
@@ -266,7 +271,7 @@ public final class CheckEdgesTest {
 
     // "a part that is no relations itself"
     private static void relationsNeedNotBeReached() {
-        due("root.rels", new Run().with("root", "").with("root.rels", "<rels/>"), "");
+        due("root.rels", root("<rels/>"), "");
         due("a's", new Run().with("a", "").with("a.rels", "<rels/>").with("root", ""), "4.0.0");
     }
 

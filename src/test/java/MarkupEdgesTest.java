@@ -152,8 +152,11 @@ public final class MarkupEdgesTest {
     // "12000 in all": no byte is behind the last one
     private static void theLastOf12000Bytes() {
         byte[] most = Kit.filled("ab", 4000);
-        for (String end : new String[] {"<", "<!", "<!-", "<!--", "<!--x-", "<rels", "<rels/", "<rels/><", "<rels><rel i", "<rels><rel id='&am",
-            "<rels><rel id='&#6", "<rels><rel id='&", "<rels><rel id=", "<rels><", "<rels><rel id='x' to='a'/", "<rels><rel id='x' to='a'><"}) {
+        String[] ends = {
+            "<", "<!", "<!-", "<!--", "<!--x-", "<rels", "<rels/", "<rels/><", "<rels><rel i", "<rels><rel id='&am", "<rels><rel id='&#6",
+            "<rels><rel id='&", "<rels><rel id=", "<rels><", "<rels><rel id='x' to='a'/", "<rels><rel id='x' to='a'><"
+        };
+        for (String end : ends) {
             Run run = new Run().with("a", most).with("b", most).with("root", "");
             run.add("root.rels", Kit.join(Kit.filled(" ", 4000 - end.length()), Kit.bytes(end)));
             Kit.due("12000", run.about(3, 0), 12000);
@@ -519,7 +522,10 @@ public final class MarkupEdgesTest {
 
     // "letters as far as they go (..; the fault at the first one's place otherwise)"
     private static void namesThatAreNone() {
-        for (String name : new String[] {"a", "am", "ampx", "ampz", "ampa", "amplt", "l", "ltt", "g", "gtx", "quo", "quota", "apo", "aposs", "nbsp", "x"}) {
+        String[] wrong = {
+            "a", "am", "ampx", "ampz", "ampa", "amplt", "l", "ltt", "g", "gtx", "quo", "quota", "apo", "aposs", "nbsp", "x"
+        };
+        for (String name : wrong) {
             faultBehind(OPEN + "&", name + ";' to='a'/></rels>");
             faultBehind(OPEN + "&", name + "' to='a'/></rels>");
             faultBehind(OPEN + "&", name);
@@ -562,7 +568,10 @@ public final class MarkupEdgesTest {
             faultBehind(OPEN + "&#", digits + ";' to='a'/></rels>");
             faultBehind(OPEN + "&#", digits);
         }
-        for (String none : new String[] {";", "'", "x41;", " 65;", "-65;", "+65;", "a;", ":;", "/;", "#65;", "6/;", "6:;", "1/0;", "3/;", "9:;", "1:;"}) {
+        String[] wrong = {
+            ";", "'", "x41;", " 65;", "-65;", "+65;", "a;", ":;", "/;", "#65;", "6/;", "6:;", "1/0;", "3/;", "9:;", "1:;"
+        };
+        for (String none : wrong) {
             faultBehind(OPEN + "&#", none + "' to='a'/></rels>");
         }
         faultBehind(OPEN + "&#", "");
@@ -605,8 +614,11 @@ public final class MarkupEdgesTest {
     // "a to is a NAME: otherwise the closing quote is the fault."
     private static void aToIsAName() {
         String before = "<rels><rel id='x' to='";
-        for (String name : new String[] {"", "A", "/", "a/", "/a", "a//b", ".", "..", "a/.", "../a", LONGEST + "y", LONGEST.repeat(9), "a b",
-            "a-b", "&amp;", "&#32;a", "a&#47;", "&#46;", "&#46;.", "a&gt;", "\""}) {
+        String[] wrong = {
+            "", "A", "/", "a/", "/a", "a//b", ".", "..", "a/.", "../a", LONGEST + "y", LONGEST.repeat(9), "a b", "a-b", "&amp;",
+            "&#32;a", "a&#47;", "&#46;", "&#46;.", "a&gt;", "\""
+        };
+        for (String name : wrong) {
             faultBehind(before + name, "'/></rels>");
             faultBehind("<rels><rel to='" + name, "' id='x'/></rels>");
         }

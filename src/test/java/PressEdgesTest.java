@@ -98,20 +98,23 @@ public final class PressEdgesTest {
     // "nearest of several"
     private static void nearestOfSeveral() {
         due("the nearest of two", "abcxabcyabc", go(begun("abcx").fixed(257).distance(3), "y").fixed(257).distance(3));
-        due("the nearest of three", "abc1abc2abc3abc", go(go(go(begun("abc1").fixed(257).distance(3), "2").fixed(257).distance(3), "3"), "")
-            .fixed(257).distance(3));
+        due("the nearest of three", "abc1abc2abc3abc",
+            go(go(begun("abc1").fixed(257).distance(3), "2").fixed(257).distance(3), "3").fixed(257).distance(3));
         // As long as it can be, there are more: the nearest of those.
-        due("the nearest with 258", Kit.filled("a", 600), begun("a").fixed(285).distance(0).fixed(285).distance(0).length(83).distance(0));
+        due("the nearest with 258", Kit.filled("a", 600),
+            begun("a").fixed(285).distance(0).fixed(285).distance(0).length(83).distance(0));
     }
 
     private static void longestThoughFurther() {
-        due("longer, further", "abcdxabcyabcd", go(begun("abcdx").fixed(257).distance(4).number(0, 1), "y").fixed(258).distance(6).number(0, 2));
+        due("longer, further", "abcdxabcyabcd",
+            go(begun("abcdx").fixed(257).distance(4).number(0, 1), "y").fixed(258).distance(6).number(0, 2));
         due("not from the begin on", "zabcdxabcyabcd",
             go(begun("zabcdx").fixed(257).distance(4).number(0, 1), "y").fixed(258).distance(6).number(0, 2));
         due("the furthest of three", "zabcdexabcdyabcwabcde", go(go(begun("zabcdex").fixed(258).distance(4).number(1, 1), "y")
             .fixed(257).distance(4).number(0, 1), "w").fixed(259).distance(7).number(2, 2));
         // A nearer one that is as long counts.
-        due("as long, nearer", "abcdxabcdyabcd", go(begun("abcdx").fixed(258).distance(4).number(0, 1), "y").fixed(258).distance(4).number(0, 1));
+        due("as long, nearer", "abcdxabcdyabcd",
+            go(begun("abcdx").fixed(258).distance(4).number(0, 1), "y").fixed(258).distance(4).number(0, 1));
     }
 
     // "at each place the longest row": though a byte first would lead to a longer one

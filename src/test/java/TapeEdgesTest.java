@@ -7,6 +7,7 @@ public final class TapeEdgesTest {
         newObjectHasAnEmptyTape();
         newObjectHasNoFileAndNothingCameOut();
         newObjectsShareNothing();
+        theLastOf512Calls();
         typeTakesTheLowestBytesLowestFirst();
         typeRefusesAnotherN();
         typeFillsTheTape();
@@ -78,6 +79,26 @@ public final class TapeEdgesTest {
         other.with("b", "2").tape("other").expand();
         Kit.due("one's parts", one.names(), "a root");
         Kit.due("one's tape", one.again(0), 1);
+    }
+
+    // "An object is used for at most 512 calls after it has been made"
+    private static void theLastOf512Calls() {
+        Run typed = new Run();
+        for (int call = 1; call <= 512; call++) {
+            Kit.due("type, call " + call, typed.type(call, 8), 8 * call);
+        }
+        Run run = new Run().with("a", Kit.filled("abc", 60)).with("root", "").with("root.rels", "<rels><rel id='x' to='b'/></rels>");
+        int size = run.write();
+        for (int call = 0; call < 60; call++) {
+            Kit.due("write", run.write(), size);
+            Kit.due("reread", run.reread(0, 0), 0);
+            Kit.due("reread with a fault", run.reread(size - 1, 1), 1);
+            Kit.due("check", run.check(), 2);
+            Kit.due("relations", run.relations(1), 1);
+            Kit.due("expand", run.expand(), -1);
+            Kit.due("press", run.press(), 2);
+        }
+        Kit.due("the parts", run.names(), "a root root.rels");
     }
 
     // "The n lowest bytes of w come behind the tape, the lowest first: how many it has."

@@ -70,7 +70,8 @@ final class Zip {
             all.writeBytes(entryOf(p));
         }
         int size = all.size() - directory;
-        all.writeBytes(Kit.join(four(0x06054B50), two(0), two(0), two(parts.size()), two(parts.size()), four(size), four(directory), two(0)));
+        all.writeBytes(Kit.join(four(0x06054B50), two(0), two(0), two(parts.size()), two(parts.size()), four(size),
+            four(directory), two(0)));
         return all.toByteArray();
     }
 
