@@ -1,8 +1,4 @@
-import java.util.ArrayList;
-import java.util.HashSet;
-import java.util.List;
 import java.util.Random;
-import java.util.Set;
 import java.util.TreeMap;
 
 /** Promises 16, 17. */
@@ -19,7 +15,7 @@ public final class CheckTest {
     }
 
     /** Each want: kind, part, number. */
-    private static void due(String what, PackageBook book, int[]... wants) {
+    private static void due(String what, Run book, int[]... wants) {
         Kit.due(what + ", faults", book.check(), wants.length);
         for (int k = 0; k < wants.length; k++) {
             for (int ask = 0; ask < 3; ask++) {
@@ -42,7 +38,7 @@ public final class CheckTest {
     }
 
     private static void root() {
-        PackageBook book = new PackageBook();
+        Run book = new Run();
         due("no parts", book);
         Kit.add(book, "a", "");
         Kit.add(book, "b", "");
@@ -65,7 +61,7 @@ public final class CheckTest {
     }
 
     private static void relations() {
-        PackageBook book = new PackageBook();
+        Run book = new Run();
         Kit.add(book, "a", "");
         Kit.add(book, "root", "");
         Kit.add(book, "root.rels", "<rels><rel id='x' to='a'/><rel id='x' to='none'/><rel id='y' to='a'/><rel id='&#120;' to='a'/>"
@@ -81,7 +77,7 @@ public final class CheckTest {
     }
 
     private static void tellers() {
-        PackageBook book = new PackageBook();
+        Run book = new Run();
         Kit.add(book, "root", "");
         Kit.add(book, "root.rels", to("root.rels", "a.rels"));
         Kit.add(book, "a", "");
@@ -101,7 +97,7 @@ public final class CheckTest {
     }
 
     private static void namesThatAreLike() {
-        PackageBook book = new PackageBook();
+        Run book = new Run();
         Kit.add(book, "a", "");
         Kit.add(book, "a.relx", "");
         Kit.add(book, "axrels", "<");
@@ -116,7 +112,7 @@ public final class CheckTest {
     }
 
     private static void latest() {
-        PackageBook book = new PackageBook();
+        Run book = new Run();
         Kit.add(book, "b", "");
         Kit.due("one", book.check(), 1);
         Kit.add(book, "a", "");
@@ -131,7 +127,7 @@ public final class CheckTest {
     }
 
     private static void questions() {
-        PackageBook book = new PackageBook();
+        Run book = new Run();
         Kit.dueThrow("before check", Kit.INDEX, () -> book.fault(0, 0));
         Kit.add(book, "a", "");
         Kit.type(book, Kit.bytes("b"));
@@ -148,8 +144,8 @@ public final class CheckTest {
         String[] names = {"root", "root.rels", "a", "a.rels", "a.rels.rels", "b", "b.rels", "c", "c.rels", ".rels", "root.rels.rels"};
         String[] goals = {"root", "a", "b", "c", "a.rels", "none"};
         for (int round = 0; round < 4000; round++) {
-            TreeMap<String, String> parts = new TreeMap<>();
-            PackageBook book = new PackageBook();
+            TreeMap<String, byte[]> parts = new TreeMap<>();
+            Run book = new Run();
             for (String name : names) {
                 if (random.nextInt(4) > 0) {
                     StringBuilder text = new StringBuilder("<rels>");
@@ -158,55 +154,11 @@ public final class CheckTest {
                             .append(goals[random.nextInt(goals.length)]).append("'/>");
                     }
                     text.append(random.nextInt(8) == 0 ? "<" : "</rels>");
-                    parts.put(name, text.toString());
+                    parts.put(name, Kit.bytes(text.toString()));
                     Kit.add(book, name, text.toString());
                 }
             }
-            due("round " + round, book, faultsOf(parts));
-        }
-    }
-
-    private static boolean tells(TreeMap<String, String> parts, String name) {
-        return name.endsWith(".rels") && parts.containsKey(name.substring(0, name.length() - 5));
-    }
-
-    private static int[][] faultsOf(TreeMap<String, String> parts) {
-        List<int[]> faults = new ArrayList<>();
-        List<String> order = new ArrayList<>(parts.keySet());
-        for (String name : order) {
-            String told = parts.get(name + ".rels");
-            if (tells(parts, name) || told == null) {
-                continue;
-            }
-            MarkupOracle markup = new MarkupOracle(Kit.bytes(told));
-            if (markup.fault >= 0) {
-                faults.add(of(1, order.indexOf(name), markup.fault));
-            }
-            for (int k = 0; k < markup.ids.size(); k++) {
-                if (markup.ids.subList(0, k).contains(markup.ids.get(k))) {
-                    faults.add(of(2, order.indexOf(name), k));
-                }
-                if (!parts.containsKey(markup.tos.get(k))) {
-                    faults.add(of(3, order.indexOf(name), k));
-                }
-            }
-        }
-        Set<String> reached = new HashSet<>();
-        walk(parts, "root", reached);
-        for (String name : order) {
-            if (!tells(parts, name) && !reached.contains(name)) {
-                faults.add(of(4, order.indexOf(name), 0));
-            }
-        }
-        return faults.toArray(new int[0][]);
-    }
-
-    private static void walk(TreeMap<String, String> parts, String name, Set<String> reached) {
-        if (!parts.containsKey(name) || !reached.add(name) || tells(parts, name) || !parts.containsKey(name + ".rels")) {
-            return;
-        }
-        for (String goal : new MarkupOracle(Kit.bytes(parts.get(name + ".rels"))).tos) {
-            walk(parts, goal, reached);
+            due("round " + round, book, CheckOracle.faultsOf(parts));
         }
     }
 }

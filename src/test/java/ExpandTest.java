@@ -30,7 +30,7 @@ public final class ExpandTest {
         int[] fault = new int[1];
         byte[] bytes = StreamOracle.expand(stream, fault);
         Kit.due(what + " by the oracle", bytes == null ? -fault[0] : bytes.length, want);
-        PackageBook book = new PackageBook();
+        Run book = new Book();
         Kit.due(what, Kit.expand(book, stream), want);
         Kit.due(what + ", tape", book.again(0), 0);
         if (bytes != null && want >= 0) {
@@ -235,7 +235,7 @@ public final class ExpandTest {
     }
 
     private static void whatStays() {
-        PackageBook book = new PackageBook();
+        Run book = new Run();
         Kit.expand(book, new Bits().block(1, 1).fixed(65).fixed(200).fixed(256).done());
         Kit.due("a fault", Kit.expand(book, new Bits().block(1, 1).fixed(66).fixed(287).done()), -5);
         Kit.due("stays", Kit.out(book, 2), new byte[] {65, (byte) 200});
@@ -270,9 +270,9 @@ public final class ExpandTest {
     private static void deflated() {
         Random random = new Random(13);
         for (int round = 0; round < 300; round++) {
-            byte[] row = randomRow(random, random.nextInt(4001));
+            byte[] row = randomRow(random, random.nextInt(2500));
             byte[] stream = deflate(row, random.nextInt(10), random.nextInt(3));
-            PackageBook book = new PackageBook();
+            Run book = new Book();
             Kit.due("deflated " + round, Kit.expand(book, stream), row.length);
             Kit.due("deflated " + round, Kit.out(book, row.length), row);
         }
@@ -296,7 +296,7 @@ public final class ExpandTest {
             }
             byte[] want = StreamOracle.expand(stream, fault);
             met[fault[0]]++;
-            PackageBook book = new PackageBook();
+            Run book = new Book();
             int got = Kit.expand(book, stream);
             Kit.due("round " + round, got, want == null ? -fault[0] : want.length);
             if (want != null && got == want.length) {

@@ -7,17 +7,21 @@ import java.util.zip.ZipInputStream;
 
 /** Promises 8, 9. */
 public final class FileTest {
+    // By less than 512 calls, so that others are left.
+    private static final int MOST_TYPED = 500 * 8;
+
     public static void main(String[] args) throws IOException {
         empty();
         whole();
         largest();
+        mostBytes();
         whatStays();
         random();
         Kit.end();
     }
 
     private static void empty() {
-        PackageBook book = new PackageBook();
+        Run book = new Run();
         Kit.dueThrow("before write", Kit.INDEX, () -> book.file(0));
         byte[] want = {0x50, 0x4B, 5, 6, 0, 0, 0, 0, 0, 0, 0, 0, 0, 0, 0, 0, 0, 0, 0, 0, 0, 0};
         Kit.due("no parts", Kit.written(book), want);
@@ -26,7 +30,7 @@ public final class FileTest {
     }
 
     private static void whole() throws IOException {
-        PackageBook book = new PackageBook();
+        Run book = new Book();
         byte[] high = new byte[300];
         new Random(8).nextBytes(high);
         Kit.add(book, "z/last.txt", Kit.filled("to be pressed ", 400));
@@ -51,26 +55,43 @@ public final class FileTest {
     }
 
     private static void largest() {
-        PackageBook book = new PackageBook();
+        Run book = new Book();
         Zip zip = new Zip();
-        Random random = new Random(14006);
+        Random random = new Random(5206);
+        // As many bytes that pressing does not make fewer as 512 calls can type.
         for (int k = 0; k < 16; k++) {
-            byte[] content = new byte[750];
+            byte[] content = new byte[200];
             random.nextBytes(content);
             String name = "abcdefghijklmnopqrstuvw" + (char) ('a' + k);
             Kit.add(book, name, content);
             zip.fewest(name, content);
         }
+        byte[] got = Kit.written(book);
+        Kit.due("the most parts with the longest names", got.length, 16 * (200 + 30 + 46 + 2 * 24) + 22);
+        Kit.due("largest", got, zip.done());
+        Kit.due("its last byte", book.reread(got.length - 1, 1), 1);
+        Kit.due("read again", book.reread(got.length - 1, 0), 0);
+    }
+
+    private static void mostBytes() {
+        Run book = new Book();
+        Zip zip = new Zip();
+        String[] rows = {"pressed", "to be ", "a"};
+        for (int k = 0; k < 3; k++) {
+            byte[] content = Kit.filled(rows[k], 4000);
+            Kit.add(book, "p" + k, content);
+            zip.fewest("p" + k, content);
+        }
         Kit.due("in all", book.about(3, 0), 12000);
         byte[] got = Kit.written(book);
-        Kit.due("the most that a file has", got.length, 14006);
-        Kit.due("largest", got, zip.done());
-        Kit.due("its last byte", book.reread(14005, 1), 1);
-        Kit.due("read again", book.reread(14005, 0), 0);
+        Kit.due("12000 in all", got, zip.done());
+        Kit.due("its last byte", book.reread(got.length - 1, 1), 1);
+        Kit.due("read again", book.reread(got.length - 1, 0), 0);
+        Kit.due("all are there", book.about(3, 0), 12000);
     }
 
     private static void whatStays() {
-        PackageBook book = new PackageBook();
+        Run book = new Run();
         Kit.add(book, "a", "one");
         byte[] before = Kit.written(book);
         Kit.type(book, Kit.bytes("b2"));
@@ -87,10 +108,10 @@ public final class FileTest {
     private static void random() {
         Random random = new Random(9);
         for (int round = 0; round < 60; round++) {
-            PackageBook book = new PackageBook();
+            Run book = new Book();
             TreeMap<String, byte[]> parts = new TreeMap<>();
             for (int k = random.nextInt(17); k > 0; k--) {
-                byte[] content = new byte[random.nextInt(random.nextInt(6) == 0 ? 700 : 40)];
+                byte[] content = new byte[random.nextInt(random.nextInt(9) == 0 ? 700 : 40)];
                 int letters = 1 + random.nextInt(30);
                 for (int n = 0; n < content.length; n++) {
                     content[n] = (byte) random.nextInt(letters);
@@ -103,8 +124,8 @@ public final class FileTest {
             parts.forEach(zip::fewest);
             byte[] want = zip.done();
             Kit.due("round " + round, Kit.written(book), want);
-            if (want.length <= 8000) {
-                PackageBook other = new PackageBook();
+            if (want.length <= MOST_TYPED) {
+                Run other = new Book();
                 Kit.due("round " + round + " read", Kit.read(other, want), 0);
                 Kit.due("round " + round + " again", Kit.written(other), want);
             }

@@ -67,6 +67,10 @@ final class Kit {
         return text.getBytes(StandardCharsets.ISO_8859_1);
     }
 
+    static String text(byte[] row) {
+        return new String(row, StandardCharsets.ISO_8859_1);
+    }
+
     static byte[] join(byte[]... rows) {
         ByteArrayOutputStream all = new ByteArrayOutputStream();
         for (byte[] row : rows) {
@@ -84,49 +88,41 @@ final class Kit {
         return row;
     }
 
-    /** Types at most 8 bytes a call. */
-    static void type(PackageBook book, byte[] row) {
-        for (int from = 0; from < row.length; from += 8) {
-            int n = Math.min(8, row.length - from);
-            long w = 0;
-            for (int k = 0; k < n; k++) {
-                w |= (long) (row[from + k] & 255) << (8 * k);
-            }
-            book.type(w, n);
-        }
+    static void type(Run book, byte[] row) {
+        book.tape(row);
     }
 
-    static int add(PackageBook book, String name, byte[] content) {
+    static int add(Run book, String name, byte[] content) {
         type(book, join(bytes(name), content));
         return book.add(name.length());
     }
 
-    static int add(PackageBook book, String name, String content) {
+    static int add(Run book, String name, String content) {
         return add(book, name, bytes(content));
     }
 
-    static boolean remove(PackageBook book, String name) {
+    static boolean remove(Run book, String name) {
         type(book, bytes(name));
         return book.remove();
     }
 
-    static int expand(PackageBook book, byte[] stream) {
+    static int expand(Run book, byte[] stream) {
         type(book, stream);
         return book.expand();
     }
 
-    static int press(PackageBook book, byte[] row) {
+    static int press(Run book, byte[] row) {
         type(book, row);
         return book.press();
     }
 
-    static int read(PackageBook book, byte[] file) {
+    static int read(Run book, byte[] file) {
         type(book, file);
         return book.read();
     }
 
     /** What came out last, of which there must be n bytes. */
-    static byte[] out(PackageBook book, int n) {
+    static byte[] out(Run book, int n) {
         byte[] row = new byte[n];
         for (int k = 0; k < n; k++) {
             row[k] = (byte) book.out(k);
@@ -135,7 +131,7 @@ final class Kit {
         return row;
     }
 
-    static byte[] written(PackageBook book) {
+    static byte[] written(Run book) {
         int n = book.write();
         byte[] row = new byte[n];
         for (int k = 0; k < n; k++) {
@@ -145,7 +141,7 @@ final class Kit {
         return row;
     }
 
-    static byte[] nameOf(PackageBook book, int i) {
+    static byte[] nameOf(Run book, int i) {
         byte[] row = new byte[book.about(1, i)];
         for (int k = 0; k < row.length; k++) {
             row[k] = (byte) book.byteOf(i, k);
@@ -153,15 +149,16 @@ final class Kit {
         return row;
     }
 
-    static byte[] contentOf(PackageBook book, int i) {
+    static byte[] contentOf(Run book, int i) {
         byte[] row = new byte[book.about(2, i)];
+        int from = book.about(1, i);
         for (int k = 0; k < row.length; k++) {
-            row[k] = (byte) book.byteOf(i, book.about(1, i) + k);
+            row[k] = (byte) book.byteOf(i, from + k);
         }
         return row;
     }
 
-    static void dueParts(String what, PackageBook book, String... names) {
+    static void dueParts(String what, Run book, String... names) {
         due(what + ", parts", book.about(0, -7), names.length);
         for (int i = 0; i < Math.min(names.length, book.about(0, 0)); i++) {
             due(what + ", name " + i, nameOf(book, i), bytes(names[i]));

@@ -21,7 +21,7 @@ public final class MarkupTest {
         String what = new String(markup, java.nio.charset.StandardCharsets.ISO_8859_1);
         MarkupOracle oracle = new MarkupOracle(markup);
         Kit.due(what + " by the oracle", oracle.fault < 0 ? oracle.ids.size() : oracle.fault - 1000, want);
-        PackageBook book = new PackageBook();
+        Run book = new Run();
         Kit.add(book, "a", "");
         Kit.add(book, "root", "");
         Kit.add(book, "root.rels", markup);
@@ -197,7 +197,7 @@ public final class MarkupTest {
             MarkupOracle oracle = new MarkupOracle(part);
             due(part, oracle.fault < 0 ? 2 : oracle.fault - 1000);
             // Where the next part goes on with what is missing, that does not count.
-            PackageBook book = new PackageBook();
+            Run book = new Run();
             Kit.add(book, "root", "");
             Kit.add(book, "root.rels", part);
             Kit.add(book, "root.relsx", whole.substring(n));
@@ -210,7 +210,7 @@ public final class MarkupTest {
     private static void mostRelations() {
         byte[] all = Kit.join(Kit.bytes("<rels>"), Kit.filled("<rel id=\"a\" to=\"b\"/>", 199 * 20), Kit.bytes("</rels>"));
         due(all, 199);
-        PackageBook book = new PackageBook();
+        Run book = new Run();
         for (String name : new String[] {"root", "x", "y"}) {
             Kit.add(book, name, "");
             Kit.add(book, name + ".rels", all);
@@ -226,7 +226,7 @@ public final class MarkupTest {
     }
 
     private static void whoseRelations() {
-        PackageBook book = new PackageBook();
+        Run book = new Run();
         String one = "<rels><rel id='x' to='a'/></rels>";
         Kit.add(book, "a", "");
         Kit.due("nobody tells", book.relations(0), 0);
@@ -255,7 +255,7 @@ public final class MarkupTest {
     }
 
     private static void whereTheyGo() {
-        PackageBook book = new PackageBook();
+        Run book = new Run();
         Kit.add(book, "b", "");
         Kit.add(book, "b.rels", "<rels><rel id='x' to='c'/><rel id='y' to='b'/><rel id='z' to='a'/></rels>");
         Kit.due("no c", book.relation(0, 0), -1);

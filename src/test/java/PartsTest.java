@@ -11,7 +11,7 @@ public final class PartsTest {
     }
 
     private static void names() {
-        PackageBook book = new PackageBook();
+        Run book = new Run();
         String[] wrong = {
             "", "/", "a/", "/a", "a//b", ".", "..", "a/.", "./a", "a/../b", "..", "A", "a-b", "a b", "a\u00e1", "a\u0000",
             "`", "{", ":", "abcdefghijklmnopqrstuvwxy"
@@ -36,7 +36,7 @@ public final class PartsTest {
     }
 
     private static void order() {
-        PackageBook book = new PackageBook();
+        Run book = new Run();
         for (String name : new String[] {"b", "a/b", "ab", "a", "_", "a.b", "0", "a0", "..."}) {
             Kit.add(book, name, "<" + name + ">");
         }
@@ -48,7 +48,7 @@ public final class PartsTest {
     }
 
     private static void instead() {
-        PackageBook book = new PackageBook();
+        Run book = new Run();
         Kit.add(book, "a", "one");
         Kit.add(book, "b", "two");
         Kit.add(book, "c", "three");
@@ -63,7 +63,7 @@ public final class PartsTest {
     }
 
     private static void limits() {
-        PackageBook book = new PackageBook();
+        Run book = new Book();
         byte[] most = Kit.filled("xyz", 4000);
         Kit.dueThrow("4001", Kit.UNSUPPORTED, () -> Kit.add(book, "a", Kit.filled("x", 4001)));
         Kit.due("tape taken", book.again(0), 0);
@@ -91,7 +91,7 @@ public final class PartsTest {
     }
 
     private static void removing() {
-        PackageBook book = new PackageBook();
+        Run book = new Run();
         Kit.due("empty tape", book.remove(), false);
         Kit.add(book, "a", "1");
         Kit.add(book, "b", "22");
@@ -113,7 +113,7 @@ public final class PartsTest {
     }
 
     private static void questions() {
-        PackageBook book = new PackageBook();
+        Run book = new Run();
         Kit.add(book, "ab", "\u00ff\u0000\u0080");
         Kit.due("parts, any i", book.about(0, -1), 1);
         Kit.due("in all, any i", book.about(3, Integer.MAX_VALUE), 3);

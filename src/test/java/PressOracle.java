@@ -9,9 +9,10 @@ final class PressOracle {
         while (at < row.length) {
             int best = 0;
             int from = 0;
-            for (int q = at - 1; q >= 0; q--) {
+            int most = Math.min(258, row.length - at);
+            for (int q = at - 1; q >= 0 && best < most; q--) {
                 int n = 0;
-                while (n < 258 && at + n < row.length && row[q + n] == row[at + n]) {
+                while (n < most && row[q + n] == row[at + n]) {
                     n++;
                 }
                 if (n > best) {

@@ -14,7 +14,7 @@ public final class PressTest {
 
     private static void due(String what, byte[] row) throws DataFormatException {
         byte[] want = PressOracle.press(row);
-        PackageBook book = new PackageBook();
+        Run book = new Book();
         Kit.due(what + ", size", Kit.press(book, row), want.length);
         Kit.due(what + ", tape", book.again(0), 0);
         byte[] got = Kit.out(book, want.length);
@@ -25,12 +25,16 @@ public final class PressTest {
         Kit.due(what + ", inflated", inflater.inflate(back), row.length);
         inflater.end();
         Kit.due(what + ", inflated", java.util.Arrays.copyOf(back, row.length), row);
-        Kit.due(what + ", expanded", Kit.expand(book, got), row.length);
-        Kit.due(what + ", expanded", Kit.out(book, row.length), row);
+        // More can't be typed by 512 calls with some left.
+        if (got.length <= 500 * 8) {
+            Run other = new Book();
+            Kit.due(what + ", expanded", Kit.expand(other, got), row.length);
+            Kit.due(what + ", expanded", Kit.out(other, row.length), row);
+        }
     }
 
     private static void known() throws DataFormatException {
-        PackageBook book = new PackageBook();
+        Run book = new Run();
         Kit.due("nothing", book.press(), 2);
         Kit.due("nothing", Kit.out(book, 2), new byte[] {3, 0});
         Kit.dueThrow("out(-1)", Kit.INDEX, () -> book.out(-1));
@@ -49,7 +53,7 @@ public final class PressTest {
     }
 
     private static void limits() throws DataFormatException {
-        PackageBook book = new PackageBook();
+        Run book = new Run();
         Kit.press(book, Kit.bytes("stays"));
         byte[] before = Kit.out(book, 7);
         Kit.type(book, Kit.filled("ab", 4001));
@@ -64,8 +68,7 @@ public final class PressTest {
             high[k + 1] = (byte) (144 + k / 2 / 89);
         }
         due("nine bits each", high);
-        Kit.due("the most that can come out", Kit.press(book, high), 4502);
-        Kit.press(book, Kit.bytes("stays"));
+        Kit.due("the most that can come out", Kit.press(new Run(), high), 4502);
         // What comes out of press is not changed by what write presses.
         Kit.press(book, Kit.bytes("stays"));
         Kit.add(book, "a", Kit.filled("abc", 100));
@@ -88,7 +91,7 @@ public final class PressTest {
     private static void random() throws DataFormatException {
         Random random = new Random(12);
         for (int round = 0; round < 300; round++) {
-            byte[] row = new byte[random.nextInt(round % 10 == 0 ? 4001 : 300)];
+            byte[] row = new byte[random.nextInt(round % 10 == 0 ? 2500 : 300)];
             int letters = 1 + random.nextInt(round % 3 == 0 ? 256 : 4);
             for (int k = 0; k < row.length; k++) {
                 row[k] = (byte) random.nextInt(letters);

@@ -19,7 +19,7 @@ public final class ReadingTest {
 
     private static void due(String what, byte[] file, int want) {
         Kit.due(what + " by the oracle", new FileOracle(file).fault, want);
-        PackageBook book = new PackageBook();
+        Run book = new Book();
         Kit.add(book, "old", "stays");
         book.write();
         Kit.due(what, Kit.read(book, file), want);
@@ -34,7 +34,7 @@ public final class ReadingTest {
         Kit.dueParts(what + ", reread", book, "old");
     }
 
-    private static void dueSame(String what, PackageBook book, FileOracle oracle) {
+    private static void dueSame(String what, Run book, FileOracle oracle) {
         Kit.dueParts(what, book, oracle.parts.keySet().toArray(new String[0]));
         int i = 0;
         for (byte[] content : oracle.parts.values()) {
@@ -205,7 +205,7 @@ public final class ReadingTest {
     }
 
     private static void rereading() {
-        PackageBook book = new PackageBook();
+        Run book = new Book();
         Kit.dueThrow("no file", Kit.INDEX, () -> book.reread(0, 0));
         Kit.add(book, "a", "plain");
         Kit.add(book, "b", Kit.filled("abc", 60));
@@ -228,13 +228,19 @@ public final class ReadingTest {
         }
     }
 
-    private static void everyByte() {
-        PackageBook book = new PackageBook();
+    private static Run threeWritten() {
+        Run book = new Book();
         Kit.add(book, "a", "");
         Kit.add(book, "b/c", Kit.filled("hello ", 50));
         Kit.add(book, "root", "plain");
-        byte[] file = Kit.written(book);
+        book.write();
+        return book;
+    }
+
+    private static void everyByte() {
+        byte[] file = Kit.written(threeWritten());
         for (int k = 0; k < file.length; k++) {
+            Run book = threeWritten();
             for (int x : new int[] {1, 2, 8, 32, 128, 255}) {
                 FileOracle oracle = new FileOracle(with(file, k, file[k] ^ x));
                 Kit.due("byte " + k + " changed by " + x, book.reread(k, x), oracle.fault);
@@ -271,7 +277,7 @@ public final class ReadingTest {
             }
             FileOracle oracle = new FileOracle(file);
             met[oracle.fault]++;
-            PackageBook book = new PackageBook();
+            Run book = new Book();
             Kit.due("round " + round, Kit.read(book, file), oracle.fault);
             if (oracle.fault == 0) {
                 dueSame("round " + round, book, oracle);

@@ -1,88 +1,126 @@
 import java.util.zip.CRC32;
 
-/** An object whose calls are counted: nothing is promised behind the 512th, so no test of an edge may need more. */
-final class Run {
+/** An object whose calls are counted: nothing is promised behind the 512th, so no test may need more. */
+class Run implements Face {
     private static final int MOST_CALLS = 512;
 
-    private final PackageBook book = new PackageBook();
+    private Face face = new Real();
     private int calls;
 
-    private PackageBook next() {
+    interface Call {
+        int on(Face face);
+    }
+
+    int left() {
+        return MOST_CALLS - calls;
+    }
+
+    /** In the object's place comes one that no call was made of yet. */
+    final void renew() {
+        face = new Real();
+        calls = 0;
+    }
+
+    /** A call that may change something. */
+    int does(Call call, String name, long... arguments) {
+        return asks(call, name, arguments);
+    }
+
+    /** A call that changes nothing. */
+    int asks(Call call, String name, long... arguments) {
+        Kit.due("a run has more than 512 calls", left() == 0, false);
         calls++;
-        Kit.due("a run has more than 512 calls", calls == MOST_CALLS + 1, false);
-        return book;
+        return call.on(face);
     }
 
-    int type(long w, int n) {
-        return next().type(w, n);
+    @Override
+    public final int type(long w, int n) {
+        return does(f -> f.type(w, n), "type", w, n);
     }
 
-    int again(int n) {
-        return next().again(n);
+    @Override
+    public final int again(int n) {
+        return does(f -> f.again(n), "again", n);
     }
 
-    int add(int n) {
-        return next().add(n);
+    @Override
+    public final int add(int n) {
+        return does(f -> f.add(n), "add", n);
     }
 
-    boolean remove() {
-        return next().remove();
+    @Override
+    public final boolean remove() {
+        return does(f -> f.remove() ? 1 : 0, "remove") == 1;
     }
 
-    int about(int what, int i) {
-        return next().about(what, i);
+    @Override
+    public final int about(int what, int i) {
+        return asks(f -> f.about(what, i), "about", what, i);
     }
 
-    int byteOf(int i, int k) {
-        return next().byteOf(i, k);
+    @Override
+    public final int byteOf(int i, int k) {
+        return asks(f -> f.byteOf(i, k), "byteOf", i, k);
     }
 
-    int write() {
-        return next().write();
+    @Override
+    public final int write() {
+        return does(f -> f.write(), "write");
     }
 
-    int file(int i) {
-        return next().file(i);
+    @Override
+    public final int file(int i) {
+        return asks(f -> f.file(i), "file", i);
     }
 
-    int read() {
-        return next().read();
+    @Override
+    public final int read() {
+        return does(f -> f.read(), "read");
     }
 
-    int reread(int at, int x) {
-        return next().reread(at, x);
+    @Override
+    public final int reread(int at, int x) {
+        return does(f -> f.reread(at, x), "reread", at, x);
     }
 
-    int press() {
-        return next().press();
+    @Override
+    public final int press() {
+        return does(f -> f.press(), "press");
     }
 
-    int expand() {
-        return next().expand();
+    @Override
+    public final int expand() {
+        return does(f -> f.expand(), "expand");
     }
 
-    int sum() {
-        return next().sum();
+    @Override
+    public final int sum() {
+        return does(f -> f.sum(), "sum");
     }
 
-    int out(int i) {
-        return next().out(i);
+    @Override
+    public final int out(int i) {
+        return asks(f -> f.out(i), "out", i);
     }
 
-    int check() {
-        return next().check();
+    @Override
+    public final int check() {
+        return does(f -> f.check(), "check");
     }
 
-    int fault(int k, int what) {
-        return next().fault(k, what);
+    @Override
+    public final int fault(int k, int what) {
+        return asks(f -> f.fault(k, what), "fault", k, what);
     }
 
-    int relations(int i) {
-        return next().relations(i);
+    @Override
+    public final int relations(int i) {
+        return asks(f -> f.relations(i), "relations", i);
     }
 
-    int relation(int i, int k) {
-        return next().relation(i, k);
+    @Override
+    public final int relation(int i, int k) {
+        return asks(f -> f.relation(i, k), "relation", i, k);
     }
 
     /** The rows come on the tape, which is empty before: what repeats itself by again, so that few calls are needed. */

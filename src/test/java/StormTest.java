@@ -5,6 +5,8 @@ public final class StormTest {
     private static final int[] EDGES = {
         Integer.MIN_VALUE, -2, -1, 0, 1, 2, 3, 4, 8, 9, 16, 17, 22, 24, 25, 255, 256, 4000, 8000, 14006, Integer.MAX_VALUE
     };
+    // A row is typed by some calls, with two round them.
+    private static final int MOST_AT_ONCE = 12;
     private static final String[] ROWS = {
         "root", "root.rels<rels><rel id='a' to='b'/></rels>", "a.rels<rels><rel id='a' to='a'></rel><!-- --></rels>",
         "b<rels><rel", "a.rels<rels><rel id='&#1", "c.rels.rels</", "root.rels<rels><rel id='a' to='", "x/y.rels&", "A"
@@ -13,8 +15,8 @@ public final class StormTest {
     public static void main(String[] args) {
         Random random = new Random(512);
         for (int round = 0; round < 3000; round++) {
-            PackageBook book = new PackageBook();
-            for (int call = 0; call < 512; call++) {
+            Run book = new Run();
+            while (book.left() >= MOST_AT_ONCE) {
                 int which = random.nextInt(20);
                 try {
                     one(book, which, random);
@@ -30,7 +32,7 @@ public final class StormTest {
         return random.nextBoolean() ? EDGES[random.nextInt(EDGES.length)] : random.nextInt(40);
     }
 
-    private static int one(PackageBook book, int which, Random random) {
+    private static int one(Run book, int which, Random random) {
         int a = some(random);
         int b = some(random);
         switch (which) {
@@ -56,7 +58,7 @@ public final class StormTest {
         }
     }
 
-    private static int typeRow(PackageBook book, Random random) {
+    private static int typeRow(Run book, Random random) {
         String row = ROWS[random.nextInt(ROWS.length)];
         book.sum();
         Kit.type(book, Kit.bytes(row));

@@ -1,5 +1,7 @@
 import java.util.HashMap;
+import java.util.HashSet;
 import java.util.Map;
+import java.util.Set;
 
 /** A STREAM read once more, in the slowest and plainest way: codes are texts of digits, a fault is an exception. */
 final class StreamOracle {
@@ -11,6 +13,22 @@ final class StreamOracle {
             this.which = which;
         }
     }
+
+    /** Symbols by their codes, and all rows of bits that a code begins with. */
+    private static final class Code {
+        final Map<String, Integer> symbols = new HashMap<>();
+        final Set<String> beginnings = new HashSet<>();
+
+        void put(String bits, int symbol) {
+            symbols.put(bits, symbol);
+            for (int n = 0; n <= bits.length(); n++) {
+                beginnings.add(bits.substring(0, n));
+            }
+        }
+    }
+
+    private static final Code FIXED_FIRST = codeOf(fixedFirst());
+    private static final Code FIXED_SECOND = codeOf(fixedSecond());
 
     private final StringBuilder bits = new StringBuilder();
     private final StringBuilder out = new StringBuilder();
@@ -59,7 +77,7 @@ final class StreamOracle {
             int kind = number(2);
             switch (kind) {
                 case 0: stored(); break;
-                case 1: symbols(codeOf(fixedFirst()), codeOf(fixedSecond())); break;
+                case 1: symbols(FIXED_FIRST, FIXED_SECOND); break;
                 case 2: coded(); break;
                 default: throw new Fault(2);
             }
@@ -107,8 +125,8 @@ final class StreamOracle {
         return told;
     }
 
-    private static Map<String, Integer> codeOf(int[] told) {
-        Map<String, Integer> code = new HashMap<>();
+    private static Code codeOf(int[] told) {
+        Code code = new Code();
         long next = 0;
         int had = 0;
         for (int n = 1; n <= 15; n++) {
@@ -141,21 +159,15 @@ final class StreamOracle {
         return part == 1 || many == 1 && ones == 1;
     }
 
-    private int symbol(Map<String, Integer> code) {
+    private int symbol(Code code) {
         String read = "";
-        while (true) {
-            boolean any = false;
-            for (String c : code.keySet()) {
-                any |= c.startsWith(read);
-            }
-            if (!any) {
-                throw new Fault(5);
-            }
-            if (code.containsKey(read)) {
-                return code.get(read);
+        while (code.beginnings.contains(read)) {
+            if (code.symbols.containsKey(read)) {
+                return code.symbols.get(read);
             }
             read += bit();
         }
+        throw new Fault(5);
     }
 
     private void coded() {
@@ -174,7 +186,7 @@ final class StreamOracle {
             throw new Fault(4);
         }
         java.util.List<Integer> told = new java.util.ArrayList<>();
-        Map<String, Integer> code = codeOf(third);
+        Code code = codeOf(third);
         while (told.size() < a + b) {
             int s = symbol(code);
             if (s == 16 && told.isEmpty()) {
@@ -206,7 +218,7 @@ final class StreamOracle {
         symbols(codeOf(first), codeOf(second));
     }
 
-    private void symbols(Map<String, Integer> first, Map<String, Integer> second) {
+    private void symbols(Code first, Code second) {
         int s = symbol(first);
         while (s != 256) {
             if (s < 256) {
@@ -220,7 +232,7 @@ final class StreamOracle {
         }
     }
 
-    private void copy(int k, Map<String, Integer> second) {
+    private void copy(int k, Code second) {
         int length;
         if (k < 8) {
             length = 3 + k;
