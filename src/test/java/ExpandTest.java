@@ -1,6 +1,5 @@
 import java.util.Arrays;
 import java.util.Random;
-import java.util.zip.Deflater;
 
 /** Promise 13: streams, right ones and each fault of the document. */
 public final class ExpandTest {
@@ -244,20 +243,6 @@ public final class ExpandTest {
         Kit.dueThrow("out(-1)", Kit.INDEX, () -> book.out(-1));
     }
 
-    private static byte[] deflate(byte[] row, int level, int strategy) {
-        Deflater deflater = new Deflater(level, true);
-        deflater.setStrategy(strategy);
-        deflater.setInput(row);
-        deflater.finish();
-        byte[] all = new byte[9000];
-        int n = 0;
-        while (!deflater.finished()) {
-            n += deflater.deflate(all, n, all.length - n);
-        }
-        deflater.end();
-        return Arrays.copyOf(all, n);
-    }
-
     private static byte[] randomRow(Random random, int n) {
         byte[] row = new byte[n];
         int letters = 1 + random.nextInt(random.nextBoolean() ? 4 : 256);
@@ -271,7 +256,7 @@ public final class ExpandTest {
         Random random = new Random(13);
         for (int round = 0; round < 300; round++) {
             byte[] row = randomRow(random, random.nextInt(2500));
-            byte[] stream = deflate(row, random.nextInt(10), random.nextInt(3));
+            byte[] stream = Kit.deflate(row, random.nextInt(10), random.nextInt(3));
             Run book = new Book();
             Kit.due("deflated " + round, Kit.expand(book, stream), row.length);
             Kit.due("deflated " + round, Kit.out(book, row.length), row);
@@ -288,7 +273,7 @@ public final class ExpandTest {
                 stream = new byte[random.nextInt(60)];
                 random.nextBytes(stream);
             } else {
-                stream = deflate(randomRow(random, random.nextInt(300)), 1 + random.nextInt(9), random.nextInt(3));
+                stream = Kit.deflate(randomRow(random, random.nextInt(300)), 1 + random.nextInt(9), random.nextInt(3));
                 for (int k = random.nextInt(3); k > 0; k--) {
                     stream[random.nextInt(Math.min(stream.length, 40))] ^= (byte) (1 << random.nextInt(8));
                 }

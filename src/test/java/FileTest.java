@@ -2,6 +2,7 @@ import java.io.ByteArrayInputStream;
 import java.io.IOException;
 import java.util.Random;
 import java.util.TreeMap;
+import java.util.zip.Deflater;
 import java.util.zip.ZipEntry;
 import java.util.zip.ZipInputStream;
 
@@ -54,23 +55,66 @@ public final class FileTest {
         Kit.due("entries", i, 5);
     }
 
-    private static void largest() {
-        Run book = new Book();
-        Zip zip = new Zip();
-        Random random = new Random(5206);
-        // As many bytes that pressing does not make fewer as 512 calls can type.
-        for (int k = 0; k < 16; k++) {
-            byte[] content = new byte[200];
-            random.nextBytes(content);
-            String name = "abcdefghijklmnopqrstuvw" + (char) ('a' + k);
-            Kit.add(book, name, content);
-            zip.fewest(name, content);
+    /** Of sixteen bytes, with no three alike: pressing finds nothing in it, but a code of its own has four bits for each. */
+    private static byte[] nothingToPress() {
+        byte[] row = new byte[4000];
+        boolean[] stood = new boolean[16 * 16 * 16];
+        int three = 0;
+        for (int k = 0; k < row.length; k++) {
+            int next = 15;
+            while (k >= 3 && stood[(three * 16 + next) % stood.length]) {
+                next--;
+            }
+            next = k < 3 ? 0 : next;
+            three = (three * 16 + next) % stood.length;
+            stood[three] |= k >= 2;
+            row[k] = (byte) ('A' + next);
         }
+        return row;
+    }
+
+    /** Three parts with these names. The stream is typed once: the others come by again, with what stands behind them. */
+    private static byte[] three(String[] names, byte[] content) {
+        byte[] stream = Kit.deflate(content, 9, Deflater.HUFFMAN_ONLY);
+        Zip zip = new Zip();
+        byte[][] heads = new byte[3][];
+        for (int k = 0; k < 3; k++) {
+            Zip.Part part = new Zip.Part(names[k], content).stream(stream);
+            part.hasRecord = false;
+            heads[k] = java.util.Arrays.copyOf(Zip.recordOf(part), 54);
+            part.record = k * (stream.length + 54) + (k == 2 ? 54 : 0);
+            zip.part(part);
+        }
+        byte[] behind = Kit.join(stream, heads[1]);
+        zip.before = Kit.join(heads[0], behind, behind, heads[2], behind, heads[2]);
+        return zip.done();
+    }
+
+    private static void largest() {
+        byte[] content = nothingToPress();
+        Kit.due("pressed they are more", PressOracle.press(content).length, 4002);
+        Run book = new Book();
+        String[] names = new String[16];
+        for (int k = 0; k < 16; k++) {
+            names[k] = "abcdefghijklmnopqrstuvw" + (char) ('a' + k);
+        }
+        String[] full = {names[0], names[7], names[15]};
+        Kit.due("read", Kit.read(book, three(full, content)), 0);
+        Zip zip = new Zip();
+        for (String name : names) {
+            boolean isFull = java.util.Arrays.asList(full).contains(name);
+            zip.fewest(name, isFull ? content : new byte[0]);
+            if (!isFull) {
+                Kit.add(book, name, "");
+            }
+        }
+        Kit.due("in all", book.about(3, 0), 12000);
         byte[] got = Kit.written(book);
-        Kit.due("the most parts with the longest names", got.length, 16 * (200 + 30 + 46 + 2 * 24) + 22);
+        Kit.due("the most that a file has", got.length, 14006);
         Kit.due("largest", got, zip.done());
-        Kit.due("its last byte", book.reread(got.length - 1, 1), 1);
-        Kit.due("read again", book.reread(got.length - 1, 0), 0);
+        Kit.due("its last byte", book.reread(14005, 1), 1);
+        Kit.due("read again", book.reread(14005, 0), 0);
+        Kit.dueParts("read again", book, names);
     }
 
     private static void mostBytes() {

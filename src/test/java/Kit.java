@@ -1,5 +1,6 @@
 import java.io.ByteArrayOutputStream;
 import java.nio.charset.StandardCharsets;
+import java.util.zip.Deflater;
 
 /** What the tests share: typing rows of bytes, comparing answers, and the exit code. */
 final class Kit {
@@ -86,6 +87,21 @@ final class Kit {
             row[k] = (byte) text.charAt(k % text.length());
         }
         return row;
+    }
+
+    /** A stream of these bytes that is not made by the program. */
+    static byte[] deflate(byte[] row, int level, int strategy) {
+        Deflater deflater = new Deflater(level, true);
+        deflater.setStrategy(strategy);
+        deflater.setInput(row);
+        deflater.finish();
+        byte[] all = new byte[9000];
+        int n = 0;
+        while (!deflater.finished()) {
+            n += deflater.deflate(all, n, all.length - n);
+        }
+        deflater.end();
+        return java.util.Arrays.copyOf(all, n);
     }
 
     static void type(Run book, byte[] row) {

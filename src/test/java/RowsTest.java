@@ -45,10 +45,6 @@ public final class RowsTest {
         Kit.due(what + ", bytes", run.about(3, 0), bytes);
     }
 
-    private static void dueThrow(String what, Class<?> thrown, Kit.Call call) {
-        Kit.dueThrow(what, thrown, call);
-    }
-
     private static void addedInAnyOrder() {
         Both run = row("added in any order");
         String[] names = {"m", "m/a", "m.a", "ma", "m_", "m0", "a", "z", "0", "_", "...", "mm/m"};
@@ -94,37 +90,37 @@ public final class RowsTest {
         for (int k = 0; k < 16; k++) {
             run.add("p" + (char) ('a' + k), "");
         }
-        dueThrow("the 17th", Kit.UNSUPPORTED, () -> run.add("q", ""));
+        Kit.dueThrow("the 17th", Kit.UNSUPPORTED, () -> run.add("q", ""));
         Kit.due("one of the 16", run.add("pc", "x"), 16);
         run.remove("pa");
         Kit.due("the 16th", run.add("q", ""), 16);
-        dueThrow("the 17th again", Kit.UNSUPPORTED, () -> run.add("pa", ""));
+        Kit.dueThrow("the 17th again", Kit.UNSUPPORTED, () -> run.add("pa", ""));
         int size = run.write();
         run.remove("q");
         run.remove("pc");
         Kit.due("fourteen", run.about(0, 0), 14);
         Kit.due("read again", run.reread(size - 1, 0), 0);
-        dueThrow("all 16 are back", Kit.UNSUPPORTED, () -> run.add("pa", ""));
+        Kit.dueThrow("all 16 are back", Kit.UNSUPPORTED, () -> run.add("pa", ""));
         due("as written", run, "pb pc pd pe pf pg ph pi pj pk pl pm pn po pp q", 1);
     }
 
     private static void filledWithBytesAndEmptied() {
         Both run = row("too many bytes");
         run.with("a", MOST).with("b", MOST).with("c", MOST);
-        dueThrow("one more byte", Kit.UNSUPPORTED, () -> run.add("d", "x"));
+        Kit.dueThrow("one more byte", Kit.UNSUPPORTED, () -> run.add("d", "x"));
         Kit.due("a part without bytes", run.add("d", ""), 4);
         Kit.due("those that it had do not count", run.add("b", MOST), 4);
         Kit.due("a byte less", run.add("a", Kit.filled("x", 3999)), 4);
         Kit.due("so there is room for one", run.add("d", "x"), 4);
-        dueThrow("not for two", Kit.UNSUPPORTED, () -> run.add("d", "xy"));
-        dueThrow("nor for its old bytes", Kit.UNSUPPORTED, () -> run.add("a", MOST));
+        Kit.dueThrow("not for two", Kit.UNSUPPORTED, () -> run.add("d", "xy"));
+        Kit.dueThrow("nor for its old bytes", Kit.UNSUPPORTED, () -> run.add("a", MOST));
         int size = run.write();
         run.remove("c");
         due("8000", run, "a b d", 8000);
         Kit.due("room for 4000", run.add("e", MOST), 4);
         Kit.due("read again", run.reread(0, 0), 0);
         due("as written", run, "a b c d", 12000);
-        dueThrow("no room again", Kit.UNSUPPORTED, () -> run.add("e", "x"));
+        Kit.dueThrow("no room again", Kit.UNSUPPORTED, () -> run.add("e", "x"));
         Kit.due("the same file", run.write(), size);
         for (String name : new String[] {"a", "b", "c", "d"}) {
             run.remove(name);
@@ -228,7 +224,7 @@ public final class RowsTest {
         Kit.due("as written", run.checked(), "3.3.1 4.0.0");
         run.with("root.rels", to("a", "b", "c"));
         Kit.due("none", run.checked(), "");
-        dueThrow("no fault is left", Kit.INDEX, () -> run.fault(0, 0));
+        Kit.dueThrow("no fault is left", Kit.INDEX, () -> run.fault(0, 0));
     }
 
     private static void rootComesAndGoes() {
@@ -277,10 +273,10 @@ public final class RowsTest {
         Kit.due("no z again", run.relation(1, 0), -1);
         run.with("m.rels", to("a"));
         Kit.due("one", run.relations(1), 1);
-        dueThrow("no second one", Kit.INDEX, () -> run.relation(1, 1));
+        Kit.dueThrow("no second one", Kit.INDEX, () -> run.relation(1, 1));
         run.remove("m");
         Kit.due("m.rels tells no part's", run.relations(1), 0);
-        dueThrow("no first one", Kit.INDEX, () -> run.relation(1, 0));
+        Kit.dueThrow("no first one", Kit.INDEX, () -> run.relation(1, 0));
     }
 
     private static void markupsInTurn() {
@@ -330,9 +326,9 @@ public final class RowsTest {
         run.fault(0, 0);
         run.relations(0);
         run.relation(0, 0);
-        dueThrow("out", Kit.INDEX, () -> run.out(0));
-        dueThrow("type", Kit.ARGUMENT, () -> run.type(0, 0));
-        dueThrow("again", Kit.ARGUMENT, () -> run.again(6));
+        Kit.dueThrow("out", Kit.INDEX, () -> run.out(0));
+        Kit.dueThrow("type", Kit.ARGUMENT, () -> run.type(0, 0));
+        Kit.dueThrow("again", Kit.ARGUMENT, () -> run.again(6));
         Kit.due("five bytes, and one", run.type('x', 1), 6);
         Kit.due("added", run.add(6), 3);
         due("its name", run, "root root.rels tape/x", 33);
@@ -341,7 +337,7 @@ public final class RowsTest {
     private static void tapeBehindCallsThatTakeIt() {
         Both run = row("the tape behind calls that take it");
         run.tape("A");
-        dueThrow("no name", Kit.ARGUMENT, () -> run.add(1));
+        Kit.dueThrow("no name", Kit.ARGUMENT, () -> run.add(1));
         Kit.due("taken by add that throws", run.again(0), 0);
         Kit.due("one", run.tape("a").add(1), 1);
         Kit.due("taken by add", run.type('b', 1), 1);
@@ -356,7 +352,7 @@ public final class RowsTest {
         Kit.due("sum", run.sum(), 0x06B9DF6F);
         Kit.due("taken by sum", run.again(0), 0);
         run.tape(Kit.filled("ab", 4001));
-        dueThrow("too many to press", Kit.UNSUPPORTED, () -> run.press());
+        Kit.dueThrow("too many to press", Kit.UNSUPPORTED, () -> run.press());
         Kit.due("taken by press that throws", run.tape("a").remove(), true);
         Kit.due("a was there all the time", run.about(0, 0), 0);
     }

@@ -3,6 +3,7 @@ import java.util.zip.CRC32;
 /** An object whose calls are counted: nothing is promised behind the 512th, so no test may need more. */
 class Run implements Face {
     private static final int MOST_CALLS = 512;
+    private static final int MUCH = 64;
 
     private Face face = new Real();
     private int calls;
@@ -133,7 +134,7 @@ class Run implements Face {
                 again(more);
                 at += more;
             } else {
-                int n = Math.min(8, row.length - at);
+                int n = typed(row, at);
                 type(word(row, at, n), n);
                 at += n;
             }
@@ -143,6 +144,15 @@ class Run implements Face {
 
     Run tape(String text) {
         return tape(Kit.bytes(text));
+    }
+
+    /** As many as one call can type, but not beyond a place where much repeats itself. */
+    private static int typed(byte[] row, int at) {
+        int n = 1;
+        while (n < 8 && at + n < row.length && repeated(row, at + n) < MUCH) {
+            n++;
+        }
+        return n;
     }
 
     private static int repeated(byte[] row, int at) {
